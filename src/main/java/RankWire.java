@@ -57,7 +57,7 @@ public final class RankWire {
     private static final int UNHEARD_FROM_END = 9;
     private static final int NOISE_MOST = 60;
     private static final int LOG_MOST = 40;
-    private static final int NEVER = Integer.MAX_VALUE;
+    private static final int NEVER = 0x7fffffff;
 
     private static final int W_MOST = 30000;
     private static final int FAULT_COST = 18;
