@@ -60,6 +60,7 @@ public final class RankWire {
     private static final int NEVER = 0x7fffffff;
 
     private static final int W_MOST = 30000;
+    private static final int ALL = -1;
     private static final int FAULT_COST = 18;
     private static final long LOAD_UNIT = 1000000L;
 
@@ -687,14 +688,18 @@ public final class RankWire {
         }
 
         int addNode() {
-            nodes[nodeCount] = new Node(nodeCount);
-            nodeCount++;
+            if (nodeCount < NODES_MOST) {
+                nodes[nodeCount] = new Node(nodeCount);
+                nodeCount++;
+            }
             return nodeCount - 1;
         }
 
         void addWord(Word made) {
-            words[wordCount] = made;
-            wordCount++;
+            if (wordCount < WORDS_MOST) {
+                words[wordCount] = made;
+                wordCount++;
+            }
         }
 
         Word holderOf(int rank) {
@@ -1293,14 +1298,14 @@ public final class RankWire {
 
         int worstBelowHigher(Word word) {
             weigh(word);
-            int busy = busyOf(word);
+            int busy = leastFrom(1, word, ALL);
             if (busy == NONE) {
                 return NONE;
             }
             int worst = 0;
             int w = 0;
             for (int q = 0; q <= W_MOST && q * word.t < busy + word.late; q++) {
-                w = leastWait(word, q, w);
+                w = leastFrom(w, word, q);
                 if (w == NONE) {
                     return NONE;
                 }
@@ -1324,10 +1329,16 @@ public final class RankWire {
             faultCost = FAULT_COST + greatest;
         }
 
-        int busyOf(Word word) {
-            int w = 1;
+        /**
+         * BUSY for q = ALL, else W(q). W(q) may be sought from W(q - 1) on, which is never above it:
+         * the least one is found all the same.
+         */
+        int leastFrom(int start, Word word, int q) {
+            int w = start;
             for (int i = 0; i <= W_MOST; i++) {
-                int next = blocked + faultsIn(w) + timesFrom(word, w) * word.cost() + higherIn(w - 1);
+                int own = q == ALL ? placesIn(w - 1, word) : q;
+                int higherOnes = higherIn(q == ALL ? w - 1 : w);
+                int next = blocked + faultsIn(w) + own * word.cost() + higherOnes;
                 if (next == w) {
                     return w;
                 }
@@ -1339,24 +1350,8 @@ public final class RankWire {
             return NONE;
         }
 
-        int timesFrom(Word word, int w) {
-            return quotient(w + word.late + word.t - 1, word.t);
-        }
-
-        /** From W(q - 1) on, which is never above W(q), so that the least one is found all the same. */
-        int leastWait(Word word, int q, int from) {
-            int w = from;
-            for (int i = 0; i <= W_MOST; i++) {
-                int next = blocked + faultsIn(w) + q * word.cost() + higherIn(w);
-                if (next == w) {
-                    return w;
-                }
-                if (next > W_MOST) {
-                    return NONE;
-                }
-                w = next;
-            }
-            return NONE;
+        int placesIn(int w, Word word) {
+            return word.t <= 0 ? 0 : (w + word.late + word.t) / word.t;
         }
 
         int faultsIn(int w) {
@@ -1368,8 +1363,7 @@ public final class RankWire {
             int total = 0;
             for (int i = 0; i < roster.wordCount; i++) {
                 if (higher[i]) {
-                    Word word = roster.words[i];
-                    total += quotient(w + word.late + word.t, word.t) * costs[i];
+                    total += placesIn(w, roster.words[i]) * costs[i];
                 }
             }
             return total;
