@@ -23,12 +23,6 @@ public final class DeskTest {
         c.end();
     }
 
-    private static RankWire withNode() {
-        RankWire x = new RankWire();
-        x.node();
-        return x;
-    }
-
     private static void everies() {
         RankWire x = new RankWire();
         c.due("27: every(100)", x.every(100), 0);
@@ -44,7 +38,7 @@ public final class DeskTest {
     private static void mosts() {
         int[] shorts = {52, 62, 72, 82, 92, 102, 112, 122, 132};
         int[] longs = {75, 85, 95, 105, 115, 125, 135, 145, 155};
-        RankWire x = withNode();
+        RankWire x = Wires.withNodes(1);
         for (int n = 0; n <= 8; n++) {
             x.word(0, n, n, 100, 0);
             x.word(0, 2048 + n, 20 + n, 100, 0);
@@ -60,23 +54,23 @@ public final class DeskTest {
     }
 
     private static void worstOfOne() {
-        RankWire x = withNode();
+        RankWire x = Wires.withNodes(1);
         c.due("29: worst(0), none", x.worst(0), RankWire.BEYOND);
         x.word(0, 5, 10, 100, 0);
         c.due("29: alone", x.worst(0), 52);
         x.late(0, 1000);
         c.due("29: alone and late", x.worst(0), 1052);
         c.due("29: worst(-1)", x.worst(-1), RankWire.BEYOND);
-        RankWire y = withNode();
+        RankWire y = Wires.withNodes(1);
         y.word(0, 5, 8, 132, 0);
         c.due("29: the wire is just full", y.worst(0), 132);
-        RankWire z = withNode();
+        RankWire z = Wires.withNodes(1);
         z.word(0, 5, 8, 131, 0);
         c.due("29: it is too full", z.worst(0), NONE);
     }
 
     private static void worstOfSome() {
-        RankWire x = withNode();
+        RankWire x = Wires.withNodes(1);
         x.word(0, 1, 0, 1000, 0);
         x.word(0, 2, 8, 1000, 0);
         x.word(0, 3, 24, 1000, 0);
@@ -87,20 +81,20 @@ public final class DeskTest {
         c.due("29: the third", x.worst(2), 61 + 52 + 132 + 92);
         c.due("29: the last", x.worst(3), 0 + 52 + 132 + 92 + 62);
         // a higher one that comes once more while it waits: at w = 276 it has 2 places if T is 276, 1 if 277
-        RankWire y = withNode();
+        RankWire y = Wires.withNodes(1);
         y.word(0, 1, 0, 276, 0);
         y.word(0, 2, 8, 1000, 0);
         y.word(0, 3, 4, 1000, 0);
         y.word(0, 4, 0, 1000, 0);
         c.due("29: one place less a tick later", y.worst(3), 52 + 132 + 92 + 52 + 52);
-        RankWire z = withNode();
+        RankWire z = Wires.withNodes(1);
         z.word(0, 1, 0, 277, 0);
         z.word(0, 2, 8, 1000, 0);
         z.word(0, 3, 4, 1000, 0);
         z.word(0, 4, 0, 1000, 0);
         c.due("29: one place", z.worst(3), 52 + 132 + 92 + 52);
         // J of a higher one: w + J + T
-        RankWire v = withNode();
+        RankWire v = Wires.withNodes(1);
         v.word(0, 1, 10, 277, 0);
         v.word(0, 2, 8, 1000, 0);
         v.word(0, 3, 4, 1000, 0);
@@ -111,7 +105,7 @@ public final class DeskTest {
 
     private static void worstOfLaterTimes() {
         // from the shared runs: the wire is full for long, and a later time is the worst
-        RankWire x = withNode();
+        RankWire x = Wires.withNodes(1);
         x.word(0, 10, 8, 400, 0);
         x.word(0, 20, 8, 500, 0);
         x.word(0, 30, 14, 900, 0);
@@ -122,7 +116,7 @@ public final class DeskTest {
             c.due("29: worst(" + i + ")", x.worst(i), due[i]);
         }
         // its own time q = 1 is worse than q = 0: W(0) = 104, W(1) = 52 + 3 * 52 + 2 * 52; BUSY is just 2 T
-        RankWire y = withNode();
+        RankWire y = Wires.withNodes(1);
         y.word(0, 1, 0, 130, 0);
         y.word(0, 2, 0, 182, 0);
         y.word(0, 3, 10, 182, 0);
@@ -130,7 +124,7 @@ public final class DeskTest {
     }
 
     private static void worstWithFaults() {
-        RankWire x = withNode();
+        RankWire x = Wires.withNodes(1);
         x.word(0, 5, 0, 1000, 0);
         x.every(100);
         // E(0) = 70, E(70) = 70
@@ -146,7 +140,7 @@ public final class DeskTest {
         x.rank(1, 6);
         // a lower one isn't looked at: B = 131, and 70 for the fault
         c.due("29: not of the lower ones", x.worst(0), 131 + 70 + 52);
-        RankWire y = withNode();
+        RankWire y = Wires.withNodes(1);
         y.word(0, 5, 0, 1000, 0);
         y.word(0, 6, 0, 1000, 0);
         y.every(122);
@@ -157,13 +151,13 @@ public final class DeskTest {
     }
 
     private static void worstAtTheLimit() {
-        RankWire x = withNode();
+        RankWire x = Wires.withNodes(1);
         x.word(0, 2049, 10, 335, 0);
         x.word(0, 2050, 15, 162, 0);
         x.late(0, 149);
         x.late(1, 118);
         c.due("29: a w of 30000", x.worst(1), 357);
-        RankWire y = withNode();
+        RankWire y = Wires.withNodes(1);
         y.every(418);
         y.word(0, 1, 14, 522, 0);
         y.word(0, 2, 14, 579, 0);
@@ -172,7 +166,7 @@ public final class DeskTest {
         y.late(1, 48);
         y.late(2, 937);
         c.due("29: a w of 30000, with faults", y.worst(2), 1709);
-        RankWire z = withNode();
+        RankWire z = Wires.withNodes(1);
         z.word(0, 1, 11, 191, 0);
         z.word(0, 2050, 13, 126, 0);
         z.word(0, 2051, 10, 516, 0);
@@ -183,7 +177,7 @@ public final class DeskTest {
     }
 
     private static void whateverCame() {
-        RankWire x = withNode();
+        RankWire x = Wires.withNodes(1);
         x.node();
         x.word(0, 1, 0, 200, 0);
         x.word(1, 2, 8, 300, 0);
@@ -196,7 +190,7 @@ public final class DeskTest {
     }
 
     private static void missesAndLoad() {
-        RankWire x = withNode();
+        RankWire x = Wires.withNodes(1);
         x.word(0, 1, 0, 1000, 0);
         x.word(0, 2, 8, 1000, 0);
         c.due("30: none", x.misses(), 0);
@@ -213,17 +207,17 @@ public final class DeskTest {
         x.due(2, 1000000);
         c.due("30: those that have no WORST don't fit", x.misses(), 3);
         c.due("31: load()", x.load(), 52000 + 132000 + 1320000);
-        RankWire y = withNode();
+        RankWire y = Wires.withNodes(1);
         y.word(0, 1, 0, 333, 0);
         y.word(0, 2, 0, 333, 0);
         // 52000000 / 333 = 156156.15 each
         c.due("31: cut each", y.load(), 2 * 156156);
-        RankWire z = withNode();
+        RankWire z = Wires.withNodes(1);
         z.word(0, 1, 0, 700, 0);
         z.word(0, 2, 0, 700, 0);
         // 52000000 / 700 = 74285.71 each
         c.due("31: cut each, not together", z.load(), 2 * 74285);
-        RankWire v = withNode();
+        RankWire v = Wires.withNodes(1);
         for (int i = 0; i < 24; i++) {
             v.word(0, 3000 + i, 8, 100, 0);
         }
@@ -241,7 +235,7 @@ public final class DeskTest {
 
     /** Word 0 may wait; word 1 fits only if it goes ahead. */
     private static RankWire twoWords() {
-        RankWire x = withNode();
+        RankWire x = Wires.withNodes(1);
         x.word(0, 1, 0, 1000, 0);
         x.word(0, 2, 0, 200, 0);
         x.due(1, 103);
@@ -270,7 +264,7 @@ public final class DeskTest {
     }
 
     private static void orderTakesTheLeastNumber() {
-        RankWire x = withNode();
+        RankWire x = Wires.withNodes(1);
         for (int i = 0; i < 4; i++) {
             x.word(0, 10 + i, 0, 5000, 0);
         }
@@ -343,7 +337,7 @@ public final class DeskTest {
     }
 
     private static void givingMixedRanks() {
-        RankWire x = withNode();
+        RankWire x = Wires.withNodes(1);
         int[] ranks = {2047, 2048, 1, 2048 + (1 << 18), 0};
         for (int i = 0; i < ranks.length; i++) {
             x.word(0, ranks[i], 0, 10000, 0);

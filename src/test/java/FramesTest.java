@@ -26,16 +26,8 @@ public final class FramesTest {
         c.end();
     }
 
-    private static RankWire withWord(int rank, int n, long value) {
-        RankWire x = new RankWire();
-        x.node();
-        x.word(0, rank, n, 100, 0);
-        x.value(0, value);
-        return x;
-    }
-
     private static void frame(int rank, int n, long value, int sum, int stuffed, String bits) {
-        RankWire x = withWord(rank, n, value);
+        RankWire x = Wires.withWord(rank, n, value);
         String of = " of rank " + rank + " with " + n + " bytes";
         c.due("10: size" + of, x.size(0), bits.length());
         for (int i = 0; i < bits.length(); i++) {
@@ -48,7 +40,7 @@ public final class FramesTest {
     }
 
     private static void valueAndRankNow() {
-        RankWire x = withWord(5, 1, 0xFF);
+        RankWire x = Wires.withWord(5, 1, 0xFF);
         c.due("12: sum of another value", x.sum(0) == 4322 ? 1 : 0, 0);
         x.value(0, 0);
         c.due("12: sum now", x.sum(0), 4322);
@@ -57,7 +49,7 @@ public final class FramesTest {
     }
 
     private static void eachCallOfItsOwnWord() {
-        RankWire x = withWord(0, 0, 0);
+        RankWire x = Wires.withWord(0, 0, 0);
         x.word(0, 2047, 0, 100, 0);
         int[][] due = {{48, 0, 0, 6}, {45, 1, 23137, 3}};
         for (int i = 0; i < 10; i++) {
@@ -70,7 +62,7 @@ public final class FramesTest {
     }
 
     private static void refusals() {
-        RankWire x = withWord(5, 1, 0);
+        RankWire x = Wires.withWord(5, 1, 0);
         int[] none = {1, -1, Integer.MAX_VALUE, Integer.MIN_VALUE};
         for (int w : none) {
             c.due("10: size(" + w + ")", x.size(w), RankWire.BEYOND);

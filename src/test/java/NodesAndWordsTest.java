@@ -19,14 +19,6 @@ public final class NodesAndWordsTest {
         c.end();
     }
 
-    private static RankWire withNodes(int n) {
-        RankWire x = new RankWire();
-        for (int i = 0; i < n; i++) {
-            x.node();
-        }
-        return x;
-    }
-
     private static void newObject() {
         RankWire x = new RankWire();
         int[] counts = {0, 0, 0, RankWire.NONE, 0, 0, 0, 0};
@@ -63,7 +55,7 @@ public final class NodesAndWordsTest {
     }
 
     private static void wordNumbers() {
-        RankWire x = withNodes(2);
+        RankWire x = Wires.withNodes(2);
         c.due("3: TIMED", x.word(0, 0, 8, 100, 0), 0);
         c.due("3: SHAKEN", x.word(1, 2047, 18, 100000, 100000), 1);
         c.due("3: RARE", x.word(1, 2048, 20, 101, 3), 2);
@@ -73,7 +65,7 @@ public final class NodesAndWordsTest {
     }
 
     private static void wordBeyond() {
-        RankWire x = withNodes(1);
+        RankWire x = Wires.withNodes(1);
         c.due("3: no such node", x.word(1, 1, 0, 100, 0), RankWire.BEYOND);
         c.due("3: node -1", x.word(-1, 1, 0, 100, 0), RankWire.BEYOND);
         c.due("3: BEYOND ahead of NO", x.word(1, -1, 99, 1, -1), RankWire.BEYOND);
@@ -89,7 +81,7 @@ public final class NodesAndWordsTest {
     }
 
     private static void wordNo() {
-        RankWire x = withNodes(1);
+        RankWire x = Wires.withNodes(1);
         x.word(0, 7, 0, 100, 0);
         int[] kinds = {-1, -10, 9, 19, 29, 39, 40, 48, 400, Integer.MIN_VALUE, Integer.MAX_VALUE};
         for (int kind : kinds) {
@@ -115,7 +107,7 @@ public final class NodesAndWordsTest {
     }
 
     private static void wordSameAndFull() {
-        RankWire x = withNodes(1);
+        RankWire x = Wires.withNodes(1);
         for (int i = 0; i < 24; i++) {
             c.due("3: word", x.word(0, 100 + i, 0, 100, 0), i);
             c.due("3: its RANK again", x.word(0, 100 + i, 20, 200, 5), RankWire.SAME);
@@ -129,7 +121,7 @@ public final class NodesAndWordsTest {
     }
 
     private static void lates() {
-        RankWire x = withNodes(1);
+        RankWire x = Wires.withNodes(1);
         x.word(0, 1, 0, 100, 0);
         x.word(0, 2, 10, 100, 0);
         x.word(0, 3, 20, 100, 0);
@@ -149,7 +141,7 @@ public final class NodesAndWordsTest {
     }
 
     private static void dues() {
-        RankWire x = withNodes(1);
+        RankWire x = Wires.withNodes(1);
         x.word(0, 1, 0, 777, 0);
         c.due("5: due(0, 1)", x.due(0, 1), 777);
         c.due("5: due(0, 1000000)", x.due(0, 1000000), 1);
@@ -161,7 +153,7 @@ public final class NodesAndWordsTest {
     }
 
     private static void values() {
-        RankWire x = withNodes(1);
+        RankWire x = Wires.withNodes(1);
         x.word(0, 1, 1, 100, 0);
         c.due("6: value(0, 0)", x.value(0, 0), 0);
         c.due("6: value(0, 256)", x.value(0, 256), 1);
@@ -173,7 +165,7 @@ public final class NodesAndWordsTest {
     }
 
     private static void ranks() {
-        RankWire x = withNodes(1);
+        RankWire x = Wires.withNodes(1);
         x.word(0, 1, 0, 100, 0);
         x.word(0, 2, 0, 100, 0);
         c.due("7: rank(0, LAST)", x.rank(0, LAST_RANK), 1);
@@ -190,7 +182,7 @@ public final class NodesAndWordsTest {
     }
 
     private static void ofWords() {
-        RankWire x = withNodes(3);
+        RankWire x = Wires.withNodes(3);
         x.word(0, 50, 27, 150, 9);
         x.word(2, 60, 18, 1500, 90);
         x.word(1, 70, 33, 300, 1);
@@ -214,7 +206,7 @@ public final class NodesAndWordsTest {
     }
 
     private static void ofRunWords() {
-        RankWire x = withNodes(2);
+        RankWire x = Wires.withNodes(2);
         x.word(0, 10, 0, 100, 0);
         x.word(1, 20, 0, 100, 0);
         x.run(1);
@@ -228,7 +220,7 @@ public final class NodesAndWordsTest {
     }
 
     private static void aboutNodes() {
-        RankWire x = withNodes(1);
+        RankWire x = Wires.withNodes(1);
         x.word(0, 0, 0, 100, 0);
         int fails = 0;
         int size = x.size(0);

@@ -11,14 +11,6 @@ public final class RowsTest {
         c.end();
     }
 
-    private static RankWire withWord(int n, long value) {
-        RankWire x = new RankWire();
-        x.node();
-        x.word(0, 5, n, 100, 0);
-        x.value(0, value);
-        return x;
-    }
-
     private static void rowIs(RankWire x, String when, int... due) {
         for (int i = 0; i < due.length; i++) {
             c.due(when + ": row(" + i + ")", x.row(i), due[i]);
@@ -27,7 +19,7 @@ public final class RowsTest {
     }
 
     private static void puts() {
-        RankWire x = withWord(8, 0x0180FF7F00102030L);
+        RankWire x = Wires.withWord(5, 8, 0x0180FF7F00102030L);
         c.due("35: put(0)", x.put(0), 8);
         rowIs(x, "35", 1, -128, -1, 127, 0, 16, 32, 48);
         x.value(0, 0);
@@ -45,7 +37,7 @@ public final class RowsTest {
     }
 
     private static void rows() {
-        RankWire x = withWord(1, 5);
+        RankWire x = Wires.withWord(5, 1, 5);
         c.due("36: tear() at first", x.tear(), 0);
         c.due("37: row(0), missing", x.row(0), RankWire.MISSING);
         c.due("37: MISSING ahead of BEYOND", x.row(-1), RankWire.MISSING);
@@ -61,7 +53,7 @@ public final class RowsTest {
     }
 
     private static void copies() {
-        RankWire x = withWord(5, 0x0102030405L);
+        RankWire x = Wires.withWord(5, 5, 0x0102030405L);
         c.due("38: MISSING ahead of BELOW", x.copy(0, 0, -1), RankWire.MISSING);
         x.put(0);
         c.due("38: to the right, over itself", x.copy(0, 1, 4), 4);
@@ -85,7 +77,7 @@ public final class RowsTest {
     }
 
     private static void statuses() {
-        RankWire x = withWord(0, 0);
+        RankWire x = Wires.withWord(5, 0, 0);
         x.told(0);
         x.size(9);
         x.size(9);
@@ -117,7 +109,7 @@ public final class RowsTest {
     }
 
     private static void bytesAreNoRefusal() {
-        RankWire x = withWord(8, -2);
+        RankWire x = Wires.withWord(5, 8, -2);
         x.lay(0);
         x.read(0);
         c.due("39: bytes()", x.bytes(), -2);
@@ -125,7 +117,7 @@ public final class RowsTest {
     }
 
     private static void refusedCallsChangeNothing() {
-        RankWire x = withWord(3, 9);
+        RankWire x = Wires.withWord(5, 3, 9);
         x.feed(5, 3);
         x.read(0);
         int place = x.told(0);

@@ -32,14 +32,6 @@ public final class RunTest {
         c.end();
     }
 
-    private static RankWire withNodes(int n) {
-        RankWire x = new RankWire();
-        for (int i = 0; i < n; i++) {
-            x.node();
-        }
-        return x;
-    }
-
     private static void logIs(RankWire x, String name, int i, int word, int began, int ended, int time) {
         c.due("26: " + name + ": word", x.log(i, 0), word);
         c.due("26: " + name + ": began", x.log(i, 1), began);
@@ -48,7 +40,7 @@ public final class RunTest {
     }
 
     private static void oneTimedWord() {
-        RankWire x = withNodes(2);
+        RankWire x = Wires.withNodes(2);
         x.word(0, 5, 1, 400, 7);
         int size = x.size(0);
         c.due("24: run(7)", x.run(7), 0);
@@ -75,7 +67,7 @@ public final class RunTest {
     }
 
     private static void theFirstRankGoesOn() {
-        RankWire x = withNodes(2);
+        RankWire x = Wires.withNodes(2);
         x.word(0, 9, 0, 1000, 0);
         x.word(1, 2048 + (8 << 18), 0, 1000, 0);
         x.word(0, 8, 0, 1000, 1);
@@ -92,7 +84,7 @@ public final class RunTest {
     }
 
     private static void lossesWhileWaiting() {
-        RankWire x = withNodes(2);
+        RankWire x = Wires.withNodes(2);
         x.word(0, 1, 8, 100, 0);
         x.word(1, 2, 0, 100, 1);
         x.value(0, 0x5555555555555555L);
@@ -109,7 +101,7 @@ public final class RunTest {
     }
 
     private static void comingWhileUnderWay() {
-        RankWire x = withNodes(2);
+        RankWire x = Wires.withNodes(2);
         x.word(0, 1, 8, 100, 0);
         int size = x.size(0);
         x.run(101);
@@ -120,7 +112,7 @@ public final class RunTest {
     }
 
     private static void valueAndRankAsItBegins() {
-        RankWire x = withNodes(2);
+        RankWire x = Wires.withNodes(2);
         x.word(0, 5, 8, 1000, 0);
         x.value(0, 0x5555555555555555L);
         int size = x.size(0);
@@ -130,7 +122,7 @@ public final class RunTest {
         c.due("8: another size now", x.size(0) == size ? 1 : 0, 0);
         c.due("24: its size as it began", x.run(size - 2), 0);
         c.due("24: its last tick", x.run(1), 1);
-        RankWire y = withNodes(2);
+        RankWire y = Wires.withNodes(2);
         y.word(0, 5, 0, 1000, 0);
         y.word(0, 6, 0, 1000, 0);
         y.word(0, 7, 0, 1000, 0);
@@ -141,12 +133,12 @@ public final class RunTest {
     }
 
     private static void toldLater() {
-        RankWire x = withNodes(2);
+        RankWire x = Wires.withNodes(2);
         x.run(250);
         x.word(0, 5, 0, 100, 50);
         x.run(1);
         c.due("3: a time in the tick that is open", x.count(3), 0);
-        RankWire y = withNodes(2);
+        RankWire y = Wires.withNodes(2);
         y.run(251);
         y.word(0, 5, 0, 100, 50);
         c.due("3: times ahead are left out", y.run(99), 0);
@@ -154,7 +146,7 @@ public final class RunTest {
         y.run(1);
         c.due("25: its next time", y.count(3), 0);
         c.due("8: no losses", y.of(0, 10), 0);
-        RankWire z = withNodes(2);
+        RankWire z = Wires.withNodes(2);
         z.run(10);
         z.word(0, 5, 0, 100, 50);
         z.run(41);
@@ -162,7 +154,7 @@ public final class RunTest {
     }
 
     private static void shakenTimes() {
-        RankWire x = withNodes(2);
+        RankWire x = Wires.withNodes(2);
         x.word(0, 5, 10, 100, 10);
         c.due("4: late", x.late(0, 20), 0);
         int size = x.size(0);
@@ -176,7 +168,7 @@ public final class RunTest {
     }
 
     private static void shakenTimesThatWaitForTheirTick() {
-        RankWire x = withNodes(2);
+        RankWire x = Wires.withNodes(2);
         x.run(5000);
         x.run(5000);
         x.word(0, 5, 10, 100, 0);
@@ -197,7 +189,7 @@ public final class RunTest {
         x.run(2 * size);
         logIs(x, "the first of them", 1, 0, 10500, 10500 + size - 1, 500 + size - 1);
         logIs(x, "the last of them", 0, 0, 10500 + size + 3, 10500 + 2 * size + 2, 2 * size + 2);
-        RankWire y = withNodes(2);
+        RankWire y = Wires.withNodes(2);
         y.word(0, 5, 10, 100, 0);
         y.run(80);
         y.late(0, 6);
@@ -211,7 +203,7 @@ public final class RunTest {
     }
 
     private static void rareWords() {
-        RankWire x = withNodes(2);
+        RankWire x = Wires.withNodes(2);
         x.word(0, 5, 20, 100, 3);
         x.word(0, 6, 0, 1000, 900);
         x.word(0, 7, 10, 1000, 900);
@@ -240,7 +232,7 @@ public final class RunTest {
     }
 
     private static void rareWordThatWaits() {
-        RankWire x = withNodes(2);
+        RankWire x = Wires.withNodes(2);
         x.word(0, 1, 8, 100, 0);
         x.value(0, 0x5555555555555555L);
         x.word(0, 5, 20, 100, 0);
@@ -280,7 +272,7 @@ public final class RunTest {
     }
 
     private static void answers() {
-        RankWire x = withNodes(3);
+        RankWire x = Wires.withNodes(3);
         x.word(0, 100, 0, 5000, 10);
         x.word(1, 90, 30, 100, 0);
         x.word(2, 80, 30, 100, 0);
@@ -302,7 +294,7 @@ public final class RunTest {
 
     private static void disturbedTicks() {
         for (int where = 0; where < 3; where++) {
-            RankWire x = withNodes(2);
+            RankWire x = Wires.withNodes(2);
             x.word(0, 5, 0, 1000, 20);
             int size = x.size(0);
             int at = 20 + (where == 0 ? 0 : where == 1 ? 17 : size - 1);
@@ -327,7 +319,7 @@ public final class RunTest {
             c.due("9: 1 less of the other", x.about(1, 0), 0);
             c.due("8: no loss", x.of(0, 10), 0);
         }
-        RankWire y = withNodes(2);
+        RankWire y = Wires.withNodes(2);
         y.word(0, 5, 0, 1000, 20);
         y.disturb(19);
         y.disturb(20 + y.size(0));
@@ -336,7 +328,7 @@ public final class RunTest {
     }
 
     private static void firstDisturbedTick() {
-        RankWire x = withNodes(2);
+        RankWire x = Wires.withNodes(2);
         x.word(0, 5, 0, 1000, 0);
         x.run(5);
         c.due("23: told while it is under way", x.disturb(30), 1);
@@ -351,7 +343,7 @@ public final class RunTest {
     }
 
     private static void failingAndComingAgain() {
-        RankWire x = withNodes(2);
+        RankWire x = Wires.withNodes(2);
         x.word(0, 1, 8, 100, 0);
         x.value(0, 0x5555555555555555L);
         int size = x.size(0);
@@ -369,7 +361,7 @@ public final class RunTest {
     }
 
     private static void countsOfNodes() {
-        RankWire x = withNodes(3);
+        RankWire x = Wires.withNodes(3);
         x.word(1, 5, 0, 100, 0);
         for (int i = 0; i < 17; i++) {
             x.disturb(19 * i);
@@ -388,7 +380,7 @@ public final class RunTest {
     }
 
     private static void edgesOfCounts() {
-        RankWire x = withNodes(2);
+        RankWire x = Wires.withNodes(2);
         x.word(0, 5, 20, 100, 0);
         x.come(0);
         for (int i = 0; i < 16; i++) {
@@ -400,7 +392,7 @@ public final class RunTest {
         x.run(100);
         c.due("9: 127", x.about(0, 0), 127);
         c.due("9: ACTIVE at 127", x.about(0, 1), 0);
-        RankWire y = withNodes(2);
+        RankWire y = Wires.withNodes(2);
         y.word(0, 5, 20, 100, 0);
         y.word(1, 4, 20, 100, 0);
         y.come(0);
@@ -444,7 +436,7 @@ public final class RunTest {
     }
 
     private static void alone() {
-        RankWire x = withNodes(1);
+        RankWire x = Wires.withNodes(1);
         x.word(0, 5, 0, 1000, 4);
         int at = 4 + x.size(0) - 9;
         x.run(at);
@@ -459,7 +451,7 @@ public final class RunTest {
     private static void aloneAndDisturbed() {
         int[] beside = {-1, 0, 1};
         for (int by : beside) {
-            RankWire x = withNodes(1);
+            RankWire x = Wires.withNodes(1);
             x.word(0, 5, 0, 1000, 0);
             int ninth = x.size(0) - 9;
             x.disturb(ninth + by);
@@ -470,7 +462,7 @@ public final class RunTest {
     }
 
     private static void otherNodeAsItBegins() {
-        RankWire x = withNodes(1);
+        RankWire x = Wires.withNodes(1);
         x.word(0, 5, 0, 1000, 1);
         x.run(2);
         x.node();
@@ -479,7 +471,7 @@ public final class RunTest {
         c.due("24: then it was not", x.count(1), 1);
         c.due("9: the other has 1 more, then 1 less", x.about(1, 0), 0);
         c.due("9: it has 8 more, then 1 less", x.about(0, 0), 7);
-        RankWire y = withNodes(1);
+        RankWire y = Wires.withNodes(1);
         y.word(0, 5, 0, 1000, 1);
         y.run(1);
         y.node();
@@ -491,7 +483,7 @@ public final class RunTest {
         int size = 48;
         int off = 31 * (size + 9) + size - 9;
         // its second time is in the tick in which the node has COUNT 0 again
-        RankWire x = withNodes(1);
+        RankWire x = Wires.withNodes(1);
         x.word(0, 0, 0, off + 1408, 3);
         c.due("10: size", x.size(0), size);
         x.run(3 + off);
@@ -507,7 +499,7 @@ public final class RunTest {
         c.due("25: it came in that tick", x.count(3), 0);
         c.due("8: no loss", x.of(0, 10), 0);
         // one tick sooner that time is gone
-        RankWire y = withNodes(1);
+        RankWire y = Wires.withNodes(1);
         y.word(0, 0, 0, off + 1407, 3);
         y.run(3 + off + 1409);
         c.due("25: it didn't come", y.count(3), NONE);
@@ -517,7 +509,7 @@ public final class RunTest {
         y.run(1);
         c.due("25: its next time", y.count(3), 0);
         // it comes again while its last frame is under way
-        RankWire z = withNodes(1);
+        RankWire z = Wires.withNodes(1);
         z.word(0, 0, 0, 31 * (size + 9) + 5, 0);
         z.run(off + 1);
         c.due("9: OFF", z.about(0, 1), 2);
@@ -545,7 +537,7 @@ public final class RunTest {
     }
 
     private static void othersBecomeOff() {
-        RankWire x = withNodes(10);
+        RankWire x = Wires.withNodes(10);
         for (int i = 0; i < 10; i++) {
             x.word(i, i, 20, 100, 0);
         }
@@ -573,7 +565,7 @@ public final class RunTest {
 
     /** A RARE word of node 0 waits behind those that fail, till the node becomes OFF by them. */
     private static void waitsOfANodeThatBecomesOff() {
-        RankWire x = withNodes(2);
+        RankWire x = Wires.withNodes(2);
         x.word(0, 0, 0, 100000, 0);
         x.word(0, 9, 20, 100, 0);
         x.word(1, 8, 20, 100, 0);
@@ -607,7 +599,7 @@ public final class RunTest {
     }
 
     private static void logOfForty() {
-        RankWire x = withNodes(2);
+        RankWire x = Wires.withNodes(2);
         x.word(0, 5, 0, 100, 0);
         int size = x.size(0);
         for (int i = 0; i < 45; i++) {

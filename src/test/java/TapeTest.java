@@ -20,14 +20,6 @@ public final class TapeTest {
         c.end();
     }
 
-    private static RankWire withWord(int rank, int n, long value) {
-        RankWire x = new RankWire();
-        x.node();
-        x.word(0, rank, n, 100, 0);
-        x.value(0, value);
-        return x;
-    }
-
     private static RankWire withTape(String bits) {
         RankWire x = new RankWire();
         for (char bit : bits.replace(" ", "").toCharArray()) {
@@ -75,7 +67,7 @@ public final class TapeTest {
     }
 
     private static void lays() {
-        RankWire x = withWord(5, 1, 0);
+        RankWire x = Wires.withWord(5, 1, 0);
         int size = x.size(0);
         c.due("16: lay(1)", x.lay(1), RankWire.BEYOND);
         c.due("16: lay(-1)", x.lay(-1), RankWire.BEYOND);
@@ -123,7 +115,7 @@ public final class TapeTest {
     }
 
     private static void wholeFrames() {
-        RankWire x = withWord(5, 1, 0x9C);
+        RankWire x = Wires.withWord(5, 1, 0x9C);
         x.word(0, 2048 + 77777777, 8, 100, 0);
         x.value(1, 0x8001020304050607L);
         x.feed(0x5, 3);
@@ -137,10 +129,10 @@ public final class TapeTest {
             c.due("20: a LONG one: told(" + i + ")", x.told(i), told[i]);
         }
         c.due("21: a LONG one: bytes()", x.bytes(), 0x8001020304050607L);
-        RankWire y = withWord(14, 0, 0);
+        RankWire y = Wires.withWord(14, 0, 0);
         y.lay(0);
         reads("one stuffed behind the last", y, 0, 0, 46, 14, 0, 4, 5616, 0);
-        RankWire z = withWord(0, 0, 0);
+        RankWire z = Wires.withWord(0, 0, 0);
         z.lay(0);
         reads("rank 0", z, 0, 0, 48, 0, 0, 6, 0, 0);
     }
@@ -177,7 +169,7 @@ public final class TapeTest {
         reads("behind a rank", withTape("0 10101010000 0 0"), 0, 2, 13, 0x550, NONE, 0, NONE, 0);
         reads("behind n", withTape("0 10101010101 0 0000 0"), 0, 2, 17, 0x555, 0, 0, NONE, 0);
         reads("behind a byte", withTape("0 10101010101 0 0010 11100000 0"), 0, 2, 25, 0x555, 2, 0, NONE, 0xE0);
-        RankWire x = withWord(14, 0, 0);
+        RankWire x = Wires.withWord(14, 0, 0);
         x.lay(0);
         x.bend(35);
         reads("behind the SUM", x, 0, 2, 35, 14, 0, 3, 5616, 0);
@@ -193,14 +185,14 @@ public final class TapeTest {
     }
 
     private static void faultOfSum() {
-        RankWire x = withWord(0x555, 2, 0xA5F0);
+        RankWire x = Wires.withWord(0x555, 2, 0xA5F0);
         x.lay(0);
         x.bend(50);
         reads("the last bit of the SUM", x, 0, 4, 50, 0x555, 2, 3, 28685, 0xA5F0);
         // ahead of looking for a stuffed bit behind it
         reads("five alike at its end", withTape("0 10101010101 0 0001 01010101 1010101011 00000 0"), 0, 4, 39,
             0x555, 1, 0, Integer.parseInt("101010101100000", 2), 0x55);
-        RankWire y = withWord(0x555, 2, 0xA5F0);
+        RankWire y = Wires.withWord(0x555, 2, 0xA5F0);
         y.lay(0);
         y.bend(1);
         reads("a bit of the rank", y, 0, 4, 50, 0x155, 2, 3, 28684, 0xA5F0);
@@ -209,7 +201,7 @@ public final class TapeTest {
     private static void faultOfTail() {
         int[][] words = {{0x555, 2, 0xA5F0, 61, 3, 28684}, {14, 0, 0, 46, 4, 5616}};
         for (int[] word : words) {
-            RankWire x = withWord(word[0], word[1], word[2]);
+            RankWire x = Wires.withWord(word[0], word[1], word[2]);
             int size = x.lay(0);
             for (int at = size - 10; at < size; at++) {
                 c.due("17: bend(" + at + ")", x.bend(at), at == size - 9 ? 1 : 0);
@@ -221,7 +213,7 @@ public final class TapeTest {
     }
 
     private static void endOfTape() {
-        RankWire whole = withWord(14, 1, 0x1F);
+        RankWire whole = Wires.withWord(14, 1, 0x1F);
         int size = whole.size(0);
         RankWire x = new RankWire();
         for (int i = 0; i < size; i++) {
@@ -248,7 +240,7 @@ public final class TapeTest {
         reads("a byte", withTape(start + "01010101"), 0, 6, 25, 0x555, 3, 0, NONE, 0x55);
         reads("15 bits", withTape(start + "01010101 1010101"), 0, 6, 32, 0x555, 3, 0, NONE, 0x55);
         reads("two bytes", withTape(start + "01010101 10101010"), 0, 6, 33, 0x555, 3, 0, NONE, 0x55AA);
-        RankWire x = withWord(5, 1, 0xFF);
+        RankWire x = Wires.withWord(5, 1, 0xFF);
         x.lay(0);
         x.read(0);
         c.due("21: bytes()", x.bytes(), 0xFF);
