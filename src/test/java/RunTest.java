@@ -1,348 +1,616 @@
-/** Promises 22 to 26, and 8 and 9 as ticks run: coming, waiting, failing, being heard. */
+/** Promises 22 to 26, and what 8 and 9 tell as ticks run, sentence by sentence. */
 public final class RunTest {
-    private static final Check c = new Check();
     private static final int NONE = RankWire.NONE;
+    private static final int SIZE = Wires.SIZE_OF_0;
+    private static final int LAST = Wires.LAST_OF_0;
+    private static final int NINTH = Wires.NINTH_OF_0;
+    private static final int OFF = Wires.OFF_OF_0;
 
     public static void main(String[] args) {
-        oneTimedWord();
-        theFirstRankGoesOn();
-        lossesWhileWaiting();
-        comingWhileUnderWay();
-        valueAndRankAsItBegins();
-        toldLater();
-        shakenTimes();
-        shakenTimesThatWaitForTheirTick();
-        rareWords();
-        rareWordOfAnOffNode();
+        ticksAreNumbered();
+        timedFromItsFirst();
+        timedEachT();
+        timedIsNeverLate();
+        shakenLater();
+        shakenByLateAsItIs();
+        shakenTimeByTime();
+        shakenTimesInOrderWhereLateWraps();
+        shakenTimeFromWithoutLate();
+        leftOutTimes();
+        leftOutTimesOfShakenOnes();
+        rareByHandAlone();
         answers();
-        disturbedTicks();
+        answersInTheNextTick();
+        answerThatIsToldLater();
+        thoseThatAreDueWait();
+        lossOfOneThatWaits();
+        noLossWhileUnderWay();
+        byItsRankAsItIsThen();
+        whereTheWireIsFree();
+        theFirstRankGoesOn();
+        valueAsItBegins();
+        forSizeTicks();
+        disturbedTick();
+        besideDisturbedTicks();
         firstDisturbedTick();
-        failingAndComingAgain();
-        countsOfNodes();
-        edgesOfCounts();
-        refusedDisturbs();
-        alone();
+        aloneAtTheNinth();
         aloneAndDisturbed();
-        otherNodeAsItBegins();
-        offAndBack();
-        offNodesDontComeNorHear();
+        aloneAsItBegins();
+        offNodesAreNone();
+        countsWhereItFails();
+        waitsAgain();
+        cameAgainMeanwhile();
+        cameAgainInThatTick();
+        freeFromThe18th();
+        heardAtItsLastTick();
+        countsWhereItIsHeard();
+        freeFromThe4th();
+        noneWaitsOfAnOffNode();
+        thoseOfOthersGoOn();
         othersBecomeOff();
-        refusedRuns();
+        zeroAgainBehind1408();
+        comesAsCountIsZeroAgain();
+        offNodesDontCome();
+        comes();
+        comesOnlyByItsTick();
+        comeRefused();
+        comeLessThanT();
+        comeOfAnOffNode();
+        disturbs();
+        disturbRefused();
+        disturbFull();
+        runs();
+        runRefused();
+        counts();
+        countOfWhatIsUnderWay();
+        logs();
         logOfForty();
-        c.end();
+        Edge.end();
     }
 
-    private static void logIs(RankWire x, String name, int i, int word, int began, int ended, int time) {
-        c.due("26: " + name + ": word", x.log(i, 0), word);
-        c.due("26: " + name + ": began", x.log(i, 1), began);
-        c.due("26: " + name + ": ended", x.log(i, 2), ended);
-        c.due("26: " + name + ": time", x.log(i, 3), time);
-    }
-
-    private static void oneTimedWord() {
-        RankWire x = Wires.withNodes(2);
-        x.word(0, 5, 1, 400, 7);
-        int size = x.size(0);
-        c.due("24: run(7)", x.run(7), 0);
-        c.due("25: not yet under way", x.count(3), NONE);
-        c.due("25: free from the first tick", x.count(4), 0);
-        c.due("24: run(1)", x.run(1), 0);
-        c.due("25: under way", x.count(3), 0);
-        c.due("25: not free", x.count(4), NONE);
-        c.due("24: all but the last tick", x.run(size - 2), 0);
-        c.due("25: still under way", x.count(3), 0);
-        c.due("24: the last tick", x.run(1), 1);
-        c.due("25: not under way", x.count(3), NONE);
-        c.due("25: free from the 4th", x.count(4), 7 + size - 1 + 4);
-        c.due("25: tick", x.count(0), 7 + size);
-        logIs(x, "timed", 0, 0, 7, 7 + size - 1, size - 1);
-        c.due("24: two times more", x.run(800), 2);
-        logIs(x, "timed, the third time", 0, 0, 807, 807 + size - 1, size - 1);
-        c.due("25: heard", x.count(1), 3);
-        c.due("25: failed", x.count(2), 0);
-        c.due("25: nodes", x.count(5), 2);
-        c.due("25: words", x.count(6), 1);
-        c.due("25: count(8)", x.count(8), RankWire.NO);
-        c.due("25: count(-1)", x.count(-1), RankWire.NO);
-    }
-
-    private static void theFirstRankGoesOn() {
-        RankWire x = Wires.withNodes(2);
-        x.word(0, 9, 0, 1000, 0);
-        x.word(1, 2048 + (8 << 18), 0, 1000, 0);
-        x.word(0, 8, 0, 1000, 1);
-        x.word(1, 2, 0, 1000, 400);
-        int long1 = x.size(1);
-        int first = x.size(2);
-        x.run(300);
-        logIs(x, "the LONG one of 8 goes ahead of 9", 2, 1, 0, long1 - 1, long1 - 1);
-        int next = long1 - 1 + 4;
-        logIs(x, "8 goes ahead of 9", 1, 2, next, next + first - 1, next + first - 1 - 1);
-        next += first - 1 + 4;
-        logIs(x, "9 at last", 0, 0, next, next + x.size(0) - 1, next + x.size(0) - 1);
-        c.due("25: free", x.count(4), next + x.size(0) + 3);
-    }
-
-    private static void lossesWhileWaiting() {
-        RankWire x = Wires.withNodes(2);
-        x.word(0, 1, 8, 100, 0);
-        x.word(1, 2, 0, 100, 1);
-        x.value(0, 0x5555555555555555L);
-        x.run(1002);
-        c.due("8: it never began", x.of(1, 9), 0);
-        c.due("8: losses, by (2) of each time but the first", x.of(1, 10), 10);
-        c.due("8: it waits", x.of(1, 8), 1);
-        x.rank(0, 3);
-        int free = x.count(4);
-        c.due("25: one is under way", free, NONE);
-        x.run(300);
-        c.due("8: it was heard", x.of(1, 9) > 0 ? 1 : 0, 1);
-        c.due("8: its time is from when it came last", x.of(1, 11) < 200 ? 1 : 0, 1);
-    }
-
-    private static void comingWhileUnderWay() {
-        RankWire x = Wires.withNodes(2);
-        x.word(0, 1, 8, 100, 0);
-        int size = x.size(0);
-        x.run(101);
-        c.due("8: under way, and it came again", x.of(0, 8), size > 100 ? 1 : 0);
-        c.due("8: that is no loss", x.of(0, 10), 0);
-        x.run(size + 4 + size - 101);
-        logIs(x, "its second time", 0, 0, size + 3, 2 * size + 2, 2 * size + 2 - 100);
-    }
-
-    private static void valueAndRankAsItBegins() {
-        RankWire x = Wires.withNodes(2);
-        x.word(0, 5, 8, 1000, 0);
-        x.value(0, 0x5555555555555555L);
-        int size = x.size(0);
-        x.run(1);
-        x.value(0, 0);
-        x.rank(0, 2048);
-        c.due("8: another size now", x.size(0) == size ? 1 : 0, 0);
-        c.due("24: its size as it began", x.run(size - 2), 0);
-        c.due("24: its last tick", x.run(1), 1);
-        RankWire y = Wires.withNodes(2);
-        y.word(0, 5, 0, 1000, 0);
-        y.word(0, 6, 0, 1000, 0);
-        y.word(0, 7, 0, 1000, 0);
-        y.run(1);
-        y.rank(2, 0);
-        y.run(150);
-        c.due("7: the rank as it is then", y.log(1, 0), 2);
-    }
-
-    private static void toldLater() {
-        RankWire x = Wires.withNodes(2);
-        x.run(250);
-        x.word(0, 5, 0, 100, 50);
-        x.run(1);
-        c.due("3: a time in the tick that is open", x.count(3), 0);
-        RankWire y = Wires.withNodes(2);
-        y.run(251);
-        y.word(0, 5, 0, 100, 50);
-        c.due("3: times ahead are left out", y.run(99), 0);
-        c.due("25: none under way", y.count(3), NONE);
-        y.run(1);
-        c.due("25: its next time", y.count(3), 0);
-        c.due("8: no losses", y.of(0, 10), 0);
-        RankWire z = Wires.withNodes(2);
-        z.run(10);
-        z.word(0, 5, 0, 100, 50);
-        z.run(41);
-        c.due("3: FIRST is yet to come", z.count(3), 0);
-    }
-
-    private static void shakenTimes() {
-        RankWire x = Wires.withNodes(2);
-        x.word(0, 5, 10, 100, 10);
-        c.due("4: late", x.late(0, 20), 0);
-        int size = x.size(0);
-        int[] later = {0, 7, 14, 0, 7};
-        x.run(500);
-        for (int k = 0; k < 5; k++) {
-            int begin = 10 + 100 * k + later[k];
-            logIs(x, "shaken, time " + k, 4 - k, 0, begin, begin + size - 1, later[k] + size - 1);
+    private static void logIs(Edge e, RankWire x, int i, int word, int began, int ended, int time) {
+        int[] due = {word, began, ended, time};
+        for (int what = 0; what < 4; what++) {
+            e.due("log(" + i + ", " + what + ")", x.log(i, what), due[what]);
         }
-        c.due("8: the greatest time", x.of(0, 11), 14 + size - 1);
     }
 
-    private static void shakenTimesThatWaitForTheirTick() {
-        RankWire x = Wires.withNodes(2);
+    // ---- how words come
+
+    private static void ticksAreNumbered() {
+        Edge e = Edge.of(25, "TICKS are numbered; the one that is open is 0 at first.");
+        RankWire x = new RankWire();
+        e.due("at first", x.count(0), 0);
+        x.run(1);
+        e.due("behind one", x.count(0), 1);
         x.run(5000);
-        x.run(5000);
-        x.word(0, 5, 10, 100, 0);
+        e.due("behind 5001", x.count(0), 5001);
+    }
+
+    private static void timedFromItsFirst() {
+        Edge e = Edge.of(24, "0 TIMED: comes at TICK FIRST");
+        int[] firsts = {0, 1, 7, 100000};
+        for (int first : firsts) {
+            RankWire x = Wires.withWordOf0(0, 100, first);
+            Wires.runTo(x, first);
+            e.due("ahead of FIRST " + first, x.count(3), NONE);
+            e.due("HEARD", x.count(1), 0);
+            x.run(1);
+            e.due("at FIRST " + first, x.count(3), 0);
+        }
+    }
+
+    private static void timedEachT() {
+        Edge e = Edge.of(24, "and each T ticks on");
+        int[] ts = {100, 101, 5000, 100000};
+        for (int t : ts) {
+            RankWire x = Wires.withWordOf0(0, t, 3);
+            Wires.runTo(x, 3 + t);
+            e.due("ahead of the second time", x.count(3), NONE);
+            e.due("HEARD", x.count(1), 1);
+            x.run(1);
+            e.due("at the second time", x.count(3), 0);
+            Wires.runTo(x, 3 + 2 * t + 1);
+            e.due("at the third time", x.count(3), 0);
+            e.due("HEARD", x.count(1), 2);
+        }
+    }
+
+    private static void timedIsNeverLate() {
+        Edge e = Edge.of(8, "each T ticks on (LATE is 0)");
+        RankWire x = Wires.withWordOf0(0, 100, 0);
+        e.due("late(0, 9)", x.late(0, 9), RankWire.KIND);
+        e.due("of(0, 6)", x.of(0, 6), 0);
+        Wires.runTo(x, 1000);
+        for (int i = 0; i < 10; i++) {
+            logIs(e, x, i, 0, 900 - 100 * i, 900 - 100 * i + LAST, LAST);
+        }
+    }
+
+    private static void shakenLater() {
+        Edge e = Edge.of(24, "the k-th time (k from 0) later by 7 * k modulo LATE + 1");
+        int[][] laters = {{0, 0, 0, 0, 0}, {6, 0, 0, 0, 0}, {7, 7, 6, 5, 4}, {8, 7, 5, 3, 1}, {20, 7, 14, 0, 7}, {28, 7, 14, 21, 28}, {1000, 7, 14, 21, 28}};
+        for (int[] later : laters) {
+            RankWire x = Wires.withWordOf0(1, 100, 10);
+            x.late(0, later[0]);
+            x.run(500);
+            logIs(e, x, 4, 0, 10, 10 + LAST, LAST);
+            for (int k = 1; k < 5; k++) {
+                int begin = 10 + 100 * k + later[k];
+                logIs(e, x, 4 - k, 0, begin, begin + LAST, later[k] + LAST);
+            }
+        }
+    }
+
+    private static void shakenByLateAsItIs() {
+        Edge e = Edge.of(4, "not ahead of its tick (by LATE as it is then)");
+        RankWire x = Wires.withWordOf0(1, 200, 0);
+        x.late(0, 100);
+        Wires.runTo(x, 204);
+        x.late(0, 5);
+        // 7 modulo 6 is 1: its tick 201 is gone by, so it comes at once
+        e.due("not yet", x.count(3), NONE);
+        x.run(1);
+        e.due("in the tick that is open", x.count(3), 0);
+        Wires.runTo(x, 402);
         x.late(0, 1000);
-        int size = x.size(0);
-        c.due("4: k is counted from FIRST: 700 later", x.run(500), 0);
-        c.due("8: doesn't wait", x.of(0, 8), 0);
+        // 14 later
+        Wires.runTo(x, 414);
+        e.due("not ahead of its tick", x.count(3), NONE);
+        x.run(1);
+        e.due("in its tick", x.count(3), 0);
+        x.run(100);
+        logIs(e, x, 1, 0, 204, 204 + LAST, 4 + LAST);
+        logIs(e, x, 0, 0, 414, 414 + LAST, 14 + LAST);
+    }
+
+    private static void shakenTimeByTime() {
+        Edge e = Edge.of(4, "time by time, one in a tick at most");
+        RankWire x = Wires.withNodes(2);
+        Wires.runTo(x, 10000);
+        x.word(0, 0, 10, 100, 0);
+        x.late(0, 1000);
+        // k is 100: 700 later; then six times, k 100 .. 105, are due at once
+        e.due("none is due yet", x.run(500), 0);
+        e.due("none WAITS", x.of(0, 8), 0);
         x.late(0, 0);
         x.run(1);
-        c.due("4: by LATE as it is then", x.count(3), 0);
+        e.due("the first one comes, and begins", x.count(3), 0);
+        e.due("the second one has not come", x.of(0, 8), 0);
         x.run(1);
-        c.due("8: one in a tick", x.of(0, 8), 1);
-        c.due("8: no loss yet", x.of(0, 10), 0);
+        e.due("the second one comes", x.of(0, 8), 1);
+        e.due("no LOSS", x.of(0, 10), 0);
         for (int i = 1; i <= 6; i++) {
             x.run(1);
-            c.due("8: one in a tick, " + i, x.of(0, 10), Math.min(i, 4));
+            e.due("LOSSES, one in a tick", x.of(0, 10), Math.min(i, 4));
         }
-        x.run(2 * size);
-        logIs(x, "the first of them", 1, 0, 10500, 10500 + size - 1, 500 + size - 1);
-        logIs(x, "the last of them", 0, 0, 10500 + size + 3, 10500 + 2 * size + 2, 2 * size + 2);
-        RankWire y = Wires.withNodes(2);
-        y.word(0, 5, 10, 100, 0);
-        y.run(80);
-        y.late(0, 6);
-        y.run(80);
-        y.late(0, 1000);
-        y.run(53);
-        c.due("4: not ahead of its tick", y.count(3), NONE);
-        y.run(2);
-        c.due("4: 14 later", y.count(3), 0);
-        c.due("8: its times", y.of(0, 9), 2);
+        x.run(2 * SIZE);
+        logIs(e, x, 1, 0, 10500, 10500 + LAST, 500 + LAST);
+        logIs(e, x, 0, 0, 10500 + SIZE + 3, 10500 + 2 * SIZE + 2, 2 * SIZE + 2);
     }
 
-    private static void rareWords() {
+    private static void shakenTimesInOrderWhereLateWraps() {
+        Edge e = Edge.of(24, "7 * k modulo LATE + 1; time by time");
+        RankWire x = Wires.withWordOf0(1, 100, 0);
+        x.late(0, 1000);
+        // k = 142 is 994 later, k = 143 not at all: it waits for the one before
+        Wires.runTo(x, 15194);
+        int losses = x.of(0, 10);
+        e.due("k = 142 has not come", x.count(3), NONE);
+        x.run(1);
+        e.due("k = 142", x.count(3), 0);
+        x.run(1);
+        e.due("k = 143 in the next tick", x.of(0, 8), 1);
+        e.due("that is no LOSS", x.of(0, 10), losses);
+        x.run(20);
+        // k = 144 .. 151 are due up to 15156, k = 152 in 15263
+        e.due("k = 144 .. 151, one in a tick", x.of(0, 10), losses + 8);
+        Wires.runTo(x, 15300);
+        logIs(e, x, 1, 0, 15194, 15194 + LAST, 994 + LAST);
+        logIs(e, x, 0, 0, 15245, 15245 + LAST, 145 + LAST);
+    }
+
+    private static void shakenTimeFromWithoutLate() {
+        Edge e = Edge.of(26, "(of a SHAKEN one: from that in which it would have come without being late)");
+        RankWire x = Wires.withWordOf0(1, 100, 0);
+        x.late(0, 50);
+        x.disturb(107);
+        x.run(200);
+        // it FAILS in 107, and WAITS again from when it came
+        logIs(e, x, 1, 0, 107, 107, NONE);
+        logIs(e, x, 0, 0, 125, 125 + LAST, 25 + LAST);
+        e.due("the greatest TIME", x.of(0, 11), 25 + LAST);
+    }
+
+    private static void leftOutTimes() {
+        Edge e = Edge.of(3, "Times FIRST + k T ahead of the tick in which the WORD was told are left out.");
+        for (int kind = 0; kind < 20; kind += 10) {
+            RankWire x = Wires.withNodes(2);
+            x.run(250);
+            x.word(0, 0, kind, 100, 50);
+            x.run(1);
+            e.due("a time in that tick", x.count(3), 0);
+            RankWire y = Wires.withNodes(2);
+            y.run(251);
+            y.word(0, 0, kind, 100, 50);
+            e.due("a time one ahead of it", y.run(99), 0);
+            e.due("none is under way", y.count(3), NONE);
+            y.run(1);
+            e.due("the next time", y.count(3), 0);
+            e.due("no LOSSES", y.of(0, 10), 0);
+            RankWire z = Wires.withNodes(2);
+            z.run(10);
+            z.word(0, 0, kind, 100, 50);
+            z.run(40);
+            e.due("ahead of FIRST", z.count(3), NONE);
+            z.run(1);
+            e.due("FIRST is yet to come", z.count(3), 0);
+        }
+    }
+
+    private static void leftOutTimesOfShakenOnes() {
+        Edge e = Edge.of(3, "Times FIRST + k T ahead of the tick");
         RankWire x = Wires.withNodes(2);
-        x.word(0, 5, 20, 100, 3);
-        x.word(0, 6, 0, 1000, 900);
-        x.word(0, 7, 10, 1000, 900);
-        x.word(0, 8, 30, 1000, 0);
-        c.due("22: come(4)", x.come(4), RankWire.BEYOND);
-        c.due("22: come(-1)", x.come(-1), RankWire.BEYOND);
-        c.due("22: of a TIMED one", x.come(1), RankWire.KIND);
-        c.due("22: of a SHAKEN one", x.come(2), RankWire.KIND);
-        c.due("22: of an ASKED one", x.come(3), RankWire.KIND);
-        x.run(50);
-        c.due("22: it doesn't come by times", x.count(3), NONE);
-        c.due("22: come(0)", x.come(0), 1);
-        c.due("22: till then it doesn't WAIT", x.of(0, 8), 0);
-        c.due("22: too soon", x.come(0), RankWire.NO);
-        x.run(99);
-        c.due("22: too soon by 1", x.come(0), RankWire.NO);
-        c.due("8: heard once", x.of(0, 9), 1);
+        x.run(101);
+        x.word(0, 0, 10, 100, 0);
+        x.late(0, 20);
+        // k = 1 would come in 107, but its time 100 is left out; k = 2 is 14 later
+        e.due("not k = 1", x.run(214 - 101), 0);
+        e.due("none is under way", x.count(3), NONE);
         x.run(1);
-        c.due("22: T ticks behind the one before", x.come(0), 1);
-        x.run(1);
-        c.due("22: under way", x.count(3), 0);
-        x.run(150);
-        logIs(x, "by hand", 1, 0, 150, 150 + x.size(0) - 1, x.size(0) - 1);
-        logIs(x, "its answer", 0, 3, 150 + x.size(0) + 3, 150 + x.size(0) + 3 + x.size(3) - 1, 2 + x.size(3));
-        rareWordThatWaits();
+        e.due("k = 2", x.count(3), 0);
     }
 
-    private static void rareWordThatWaits() {
-        RankWire x = Wires.withNodes(2);
-        x.word(0, 1, 8, 100, 0);
-        x.value(0, 0x5555555555555555L);
-        x.word(0, 5, 20, 100, 0);
+    private static void rareByHandAlone() {
+        Edge e = Edge.of(22, "2 RARE: by hand.");
+        RankWire x = Wires.withWordOf0(2, 100, 3);
+        e.due("it doesn't come by FIRST and T", x.run(1000), 0);
+        e.due("none is under way", x.count(3), NONE);
+        x.come(0);
         x.run(1);
-        x.come(1);
-        x.run(100);
-        c.due("8: it waits", x.of(1, 8), 1);
-        c.due("22: come again", x.come(1), 1);
-        c.due("22: no loss till (2)", x.of(1, 10), 0);
-        x.run(1);
-        c.due("8: a loss by (2)", x.of(1, 10), 1);
-    }
-
-    /** Node 0 alone, with a word of rank 0 at tick 0 and T = 100000: OFF in the tick that is answered, run up to there. */
-    private static int untilOff(RankWire x) {
-        x.node();
-        x.word(0, 0, 0, 100000, 0);
-        int size = x.size(0);
-        int off = 31 * (size - 9 + 18) + size - 9;
-        x.run(off);
-        c.due("9: not OFF yet", x.about(0, 1), 1);
-        x.run(1);
-        c.due("9: OFF", x.about(0, 1), 2);
-        return off;
-    }
-
-    private static void rareWordOfAnOffNode() {
-        RankWire x = new RankWire();
-        int off = untilOff(x);
-        x.word(0, 5, 20, 100, 0);
-        c.due("22: its node is OFF", x.come(1), RankWire.NO);
-        x.run(1407);
-        c.due("25: tick", x.count(0), off + 1408);
-        c.due("22: it is OFF till (1)", x.come(1), RankWire.NO);
-        x.run(1);
-        c.due("22: a refused come() is none", x.come(1), 1);
+        e.due("by hand", x.count(3), 0);
+        e.due("once", x.run(1000), 1);
     }
 
     private static void answers() {
+        Edge e = Edge.of(24, "3 ASKED: as an answer to a WORD");
         RankWire x = Wires.withNodes(3);
         x.word(0, 100, 0, 5000, 10);
         x.word(1, 90, 30, 100, 0);
         x.word(2, 80, 30, 100, 0);
         x.word(0, 70, 30, 100, 2);
-        x.run(10 + x.size(0));
-        c.due("3: they come in the next tick", x.of(1, 8) + x.of(2, 8), 0);
-        x.run(1);
-        c.due("3: they come", x.of(1, 8) + x.of(2, 8), 2);
-        x.run(400);
+        x.run(600);
         int heard = 10 + x.size(0) - 1;
         int second = heard + 4 + x.size(2) - 1;
-        logIs(x, "the first answer", 2, 2, heard + 4, second, second - heard - 1);
+        logIs(e, x, 2, 2, heard + 4, second, second - heard - 1);
         int third = second + 4 + x.size(3) - 1;
-        logIs(x, "an answer to that", 1, 3, second + 4, third, third - second - 1);
-        logIs(x, "the other answer", 0, 1, third + 4, third + 4 + x.size(1) - 1, third + 4 + x.size(1) - 1 - heard - 1);
-        c.due("25: heard", x.count(1), 4);
-        c.due("24: nothing more", x.run(4000), 0);
+        logIs(e, x, 1, 3, second + 4, third, third - second - 1);
+        int fourth = third + 4 + x.size(1) - 1;
+        logIs(e, x, 0, 1, third + 4, fourth, fourth - heard - 1);
+        e.due("HEARD", x.count(1), 4);
+        e.due("nothing more", x.run(4000), 0);
     }
 
-    private static void disturbedTicks() {
-        for (int where = 0; where < 3; where++) {
-            RankWire x = Wires.withNodes(2);
-            x.word(0, 5, 0, 1000, 20);
-            int size = x.size(0);
-            int at = 20 + (where == 0 ? 0 : where == 1 ? 17 : size - 1);
-            c.due("23: disturb(" + at + ")", x.disturb(at), 1);
-            x.run(at);
-            c.due("25: none failed yet", x.count(2), 0);
-            c.due("25: one is open or later", x.count(7), 1);
-            x.run(1);
-            c.due("25: failed", x.count(2), 1);
-            c.due("25: none is open or later", x.count(7), 0);
-            c.due("25: none under way", x.count(3), NONE);
-            c.due("25: free from the 18th", x.count(4), at + 18);
-            c.due("8: it waits again", x.of(0, 8), 1);
-            c.due("9: of its node", x.about(0, 0), 8);
-            c.due("9: of the other", x.about(1, 0), 1);
-            c.due("9: failed", x.about(0, 2), 1);
-            c.due("9: failed of the other", x.about(1, 2), 0);
-            logIs(x, "failed", 0, 0, 20, at, NONE);
-            c.due("24: heard then", x.run(18 + size), 1);
-            logIs(x, "heard then", 0, 0, at + 18, at + 18 + size - 1, at + 18 + size - 1 - 20);
-            c.due("9: 1 less", x.about(0, 0), 7);
-            c.due("9: 1 less of the other", x.about(1, 0), 0);
-            c.due("8: no loss", x.of(0, 10), 0);
+    private static void answersInTheNextTick() {
+        Edge e = Edge.of(24, "ASKED WORDS that answer it come in the next tick");
+        RankWire x = Wires.withWordOf0(0, 1000, 0);
+        x.word(1, 5, 30, 100, 0);
+        x.disturb(3);
+        x.run(4);
+        x.run(1);
+        e.due("not where it FAILS", x.of(1, 8), 0);
+        Wires.runTo(x, 3 + 18 + LAST);
+        x.run(1);
+        e.due("it is HEARD", x.of(0, 9), 1);
+        e.due("not in that tick", x.of(1, 8), 0);
+        x.run(1);
+        e.due("in the next one", x.of(1, 8), 1);
+        x.run(200);
+        e.due("its TIME is from that one", x.log(0, 3), 2 + x.size(1));
+    }
+
+    private static void answerThatIsToldLater() {
+        Edge e = Edge.of(24, "ASKED WORDS that answer it come");
+        RankWire x = Wires.withWordOf0(0, 1000, 0);
+        x.run(LAST);
+        x.word(1, 5, 30, 100, 0);
+        x.run(2);
+        e.due("told while it was under way", x.of(1, 8), 1);
+        RankWire y = Wires.withWordOf0(0, 1000, 0);
+        y.run(SIZE);
+        y.word(1, 5, 30, 100, 0);
+        y.run(2);
+        e.due("told behind that", y.of(1, 8), 0);
+    }
+
+    // ---- how they wait and begin
+
+    private static void thoseThatAreDueWait() {
+        Edge e = Edge.of(8, "(2) WORDS come, by numbers, those that are due: each then WAITS");
+        RankWire x = Wires.withNodes(2);
+        for (int i = 0; i < 24; i++) {
+            x.word(i % 2, 24 - i, i % 3 == 2 ? 20 : i % 3 * 10, 5000, 4);
         }
-        RankWire y = Wires.withNodes(2);
-        y.word(0, 5, 0, 1000, 20);
-        y.disturb(19);
-        y.disturb(20 + y.size(0));
-        c.due("24: ticks beside the frame", y.run(200), 1);
-        c.due("25: none failed", y.count(2), 0);
+        for (int i = 2; i < 24; i += 3) {
+            e.due("come(" + i + ")", x.come(i), 1);
+        }
+        x.run(1);
+        for (int i = 0; i < 24; i++) {
+            // the RARE ones came in tick 0, and the last of them goes ahead of all
+            e.due("whether " + i + " WAITS in tick 0", x.of(i, 8), i % 3 == 2 && i < 23 ? 1 : 0);
+        }
+        e.due("the one under way", x.count(3), 23);
+        x.run(3);
+        e.due("those of tick 4 don't WAIT", x.of(0, 8) + x.of(1, 8), 0);
+        x.run(1);
+        for (int i = 0; i < 24; i++) {
+            e.due("whether " + i + " WAITS in tick 4", x.of(i, 8), i < 23 ? 1 : 0);
+        }
+    }
+
+    private static void lossOfOneThatWaits() {
+        Edge e = Edge.of(8, "if it WAITED already, that is a LOSS more (it WAITS from now on)");
+        RankWire x = Wires.withNodes(2);
+        x.word(0, 1, 8, 100, 0);
+        x.value(0, 0x5555555555555555L);
+        x.word(1, 2, 0, 100, 1);
+        x.run(101);
+        e.due("it WAITS", x.of(1, 8), 1);
+        e.due("no LOSS", x.of(1, 10), 0);
+        x.run(1);
+        e.due("a LOSS", x.of(1, 10), 1);
+        e.due("it WAITS", x.of(1, 8), 1);
+        x.run(900);
+        e.due("ten LOSSES", x.of(1, 10), 10);
+        x.rank(0, 3);
+        x.run(300);
+        e.due("its TIME is from when it came last", x.of(1, 11) < 200 ? 1 : 0, 1);
+    }
+
+    private static void noLossWhileUnderWay() {
+        Edge e = Edge.of(8, "and it doesn't WAIT any more");
+        RankWire x = Wires.withNodes(2);
+        x.word(0, 1, 8, 100, 0);
+        x.value(0, 0x5555555555555555L);
+        int size = x.size(0);
+        x.run(100);
+        e.due("under way", x.count(3), 0);
+        e.due("it doesn't WAIT", x.of(0, 8), 0);
+        x.run(1);
+        e.due("it came again, and WAITS", x.of(0, 8), 1);
+        e.due("that is no LOSS", x.of(0, 10), 0);
+        Wires.runTo(x, size + 4 + size);
+        logIs(e, x, 0, 0, size + 3, 2 * size + 2, 2 * size + 2 - 100);
+    }
+
+    private static void byItsRankAsItIsThen() {
+        Edge e = Edge.of(7, "the one whose RANK goes AHEAD of all");
+        RankWire x = Wires.withNodes(2);
+        x.word(0, 5, 0, 1000, 0);
+        x.word(0, 6, 0, 1000, 0);
+        x.word(0, 7, 0, 1000, 0);
+        x.run(1);
+        x.rank(2, 0);
+        x.run(150);
+        e.due("the RANK as it is then", x.log(1, 0), 2);
+    }
+
+    private static void whereTheWireIsFree() {
+        Edge e = Edge.of(24, "(3) If THE WIRE is free, and WORDS WAIT");
+        RankWire x = Wires.withWordOf0(0, 1000, 0);
+        x.word(1, 1, 0, 1000, 0);
+        Wires.runTo(x, LAST + 4);
+        e.due("the tick from which it is free", x.count(4), LAST + 4);
+        e.due("not yet", x.count(3), NONE);
+        x.run(1);
+        e.due("from there on", x.count(3), 1);
+        RankWire y = Wires.withWordOf0(0, 1000, 0);
+        y.word(1, 1, 0, 1000, LAST + 5);
+        Wires.runTo(y, LAST + 5);
+        e.due("none WAITS", y.count(3), NONE);
+        y.run(1);
+        e.due("one that comes later begins at once", y.count(3), 1);
+    }
+
+    private static void theFirstRankGoesOn() {
+        Edge e = Edge.of(24, "the one whose RANK goes AHEAD of all: its FRAME");
+        RankWire x = Wires.withNodes(2);
+        x.word(0, 9, 0, 1000, 0);
+        x.word(1, 2048 + (8 << 18), 0, 1000, 0);
+        x.word(0, 8, 0, 1000, 1);
+        x.word(1, 2, 0, 1000, 400);
+        int longSize = x.size(1);
+        int shortSize = x.size(2);
+        x.run(300);
+        // the LONG one of 8 goes ahead of 9; 8 comes while it is under way, and goes ahead of 9, too
+        logIs(e, x, 2, 1, 0, longSize - 1, longSize - 1);
+        int next = longSize - 1 + 4;
+        logIs(e, x, 1, 2, next, next + shortSize - 1, next + shortSize - 1 - 1);
+        next += shortSize - 1 + 4;
+        logIs(e, x, 0, 0, next, next + x.size(0) - 1, next + x.size(0) - 1);
+    }
+
+    private static void valueAsItBegins() {
+        Edge e = Edge.of(24, "its FRAME (with its VALUE now)");
+        RankWire x = Wires.withNodes(2);
+        x.word(0, 5, 1, 1000, 0);
+        x.word(1, 9, 1, 1000, 0);
+        x.run(1);
+        // 0 is under way with 53 bits, 1 waits: now both get others
+        x.value(0, 0x55);
+        x.rank(0, 2048);
+        x.rank(1, 133);
+        x.value(1, 13);
+        e.due("its SIZE as it began", x.run(52), 1);
+        Wires.runTo(x, 52 + 4);
+        e.due("the other one's as it begins", x.run(49), 0);
+        e.due("its last tick", x.run(1), 1);
+    }
+
+    private static void forSizeTicks() {
+        Edge e = Edge.of(24, "is under way from this tick on for SIZE ticks");
+        RankWire x = Wires.withWordOf0(0, 1000, 7);
+        x.run(8);
+        e.due("from the first one", x.count(3), 0);
+        x.run(LAST - 1);
+        e.due("at the last but one", x.count(3), 0);
+        x.run(1);
+        e.due("behind the last one", x.count(3), NONE);
+        logIs(e, x, 0, 0, 7, 7 + LAST, LAST);
+    }
+
+    // ---- how they fail
+
+    private static void disturbedTick() {
+        Edge e = Edge.of(24, "If one of its ticks is, the first such one is where it FAILS");
+        for (int where = 0; where < SIZE; where++) {
+            RankWire x = Wires.withWordOf0(0, 1000, 20);
+            int at = 20 + where;
+            x.disturb(at);
+            x.run(at);
+            e.due("none FAILED yet", x.count(2), 0);
+            x.run(1);
+            e.due("FAILED", x.count(2), 1);
+            e.due("none is under way", x.count(3), NONE);
+            logIs(e, x, 0, 0, 20, at, NONE);
+            e.due("HEARD then", x.run(18 + SIZE), 1);
+        }
+    }
+
+    private static void besideDisturbedTicks() {
+        Edge e = Edge.of(24, "If one of its ticks is");
+        RankWire x = Wires.withWordOf0(0, 1000, 20);
+        x.disturb(19);
+        x.disturb(20 + SIZE);
+        e.due("the ones beside it", x.run(200), 1);
+        e.due("none FAILED", x.count(2), 0);
+        e.due("COUNT", x.about(0, 0) + x.about(1, 0), 0);
     }
 
     private static void firstDisturbedTick() {
-        RankWire x = Wires.withNodes(2);
-        x.word(0, 5, 0, 1000, 0);
+        Edge e = Edge.of(24, "the first such one is where it FAILS");
+        RankWire x = Wires.withWordOf0(0, 1000, 0);
         x.run(5);
-        c.due("23: told while it is under way", x.disturb(30), 1);
-        c.due("23: an earlier one", x.disturb(10), 2);
-        c.due("23: between them", x.disturb(20), 3);
+        x.disturb(30);
+        x.disturb(10);
+        x.disturb(20);
         x.run(100);
-        c.due("25: two failed", x.count(2), 2);
-        logIs(x, "the first one", 2, 0, 0, 10, NONE);
-        logIs(x, "once more", 1, 0, 28, 30, NONE);
-        x.disturb(x.count(0));
-        c.due("23: the open one is told", x.count(7), 1);
+        e.due("FAILED", x.count(2), 2);
+        logIs(e, x, 2, 0, 0, 10, NONE);
+        logIs(e, x, 1, 0, 28, 30, NONE);
+        logIs(e, x, 0, 0, 48, 48 + LAST, 48 + LAST);
     }
 
-    private static void failingAndComingAgain() {
+    private static void aloneAtTheNinth() {
+        Edge e = Edge.of(24, "if no other NODE is there that is not OFF (as it begins): the ninth tick from its end");
+        RankWire x = Wires.withNodes(1);
+        x.word(0, 0, 0, 1000, 4);
+        Wires.runTo(x, 4 + NINTH);
+        e.due("under way", x.count(3), 0);
+        x.run(1);
+        e.due("FAILED", x.count(2), 1);
+        logIs(e, x, 0, 0, 4, 4 + NINTH, NONE);
+        e.due("8 more", x.about(0, 0), 8);
+        RankWire y = Wires.withWordOf0(0, 1000, 4);
+        e.due("with another one", y.run(100), 1);
+        RankWire z = Wires.withWord(133, 1, 13);
+        z.run(42);
+        logIs(e, z, 0, 0, 0, 50 - 9, NONE);
+    }
+
+    private static void aloneAndDisturbed() {
+        Edge e = Edge.of(24, "the ninth tick from its end, if that is first");
+        int[] beside = {-1, 0, 1};
+        for (int by : beside) {
+            RankWire x = Wires.withNodes(1);
+            x.word(0, 0, 0, 1000, 0);
+            x.disturb(NINTH + by);
+            x.run(NINTH + 2);
+            logIs(e, x, 0, 0, 0, Math.min(NINTH, NINTH + by), NONE);
+            e.due("FAILED once", x.count(2), 1);
+            e.due("8 more, once", x.about(0, 0), 8);
+        }
+    }
+
+    private static void aloneAsItBegins() {
+        Edge e = Edge.of(24, "that is not OFF (as it begins)");
+        RankWire x = Wires.withNodes(1);
+        x.word(0, 0, 0, 1000, 1);
+        x.run(2);
+        x.node();
+        x.run(110);
+        logIs(e, x, 1, 0, 1, 1 + NINTH, NONE);
+        e.due("then there is another", x.count(1), 1);
+        RankWire y = Wires.withNodes(1);
+        y.word(0, 0, 0, 1000, 1);
+        y.run(1);
+        y.node();
+        e.due("told ahead of its tick", y.run(100), 1);
+        e.due("none FAILED", y.count(2), 0);
+    }
+
+    private static void offNodesAreNone() {
+        Edge e = Edge.of(24, "if no other NODE is there that is not OFF");
+        RankWire x = Wires.justOff();
+        x.node();
+        x.word(1, 2047, 0, 100000, OFF + 30);
+        // 45 is the SIZE of RANK 2047
+        Wires.runTo(x, OFF + 30 + 45 - 8);
+        logIs(e, x, 0, 1, OFF + 30, OFF + 30 + 45 - 9, NONE);
+        e.due("the OFF one has no more", x.about(0, 0), 256);
+        e.due("the other one has 8 more", x.about(1, 0), 8);
+        RankWire y = Wires.justOff();
+        y.node();
+        y.word(1, 2047, 0, 100000, OFF + 1407);
+        y.word(1, 2046, 0, 100000, OFF + 1407);
+        y.run(1407 + 45);
+        e.due("OFF as it begins, not as it ends", y.count(2), 33);
+        RankWire z = Wires.justOff();
+        z.node();
+        z.word(1, 2047, 0, 100000, OFF + 1408);
+        z.run(1408 + 45);
+        e.due("not OFF as it begins", z.of(1, 9), 1);
+    }
+
+    private static void countsWhereItFails() {
+        Edge e = Edge.of(9, "its NODE has COUNT 8 more, all others that are not OFF 1 more");
+        RankWire x = Wires.withNodes(10);
+        x.word(4, 0, 0, 1000, 0);
+        x.disturb(0);
+        x.run(1);
+        for (int i = 0; i < 10; i++) {
+            e.due("COUNT of " + i, x.about(i, 0), i == 4 ? 8 : 1);
+            e.due("FAILED of " + i, x.about(i, 2), i == 4 ? 1 : 0);
+        }
+        RankWire y = Wires.withWordOf0(0, 1000, 0);
+        y.disturb(5);
+        y.run(5);
+        y.node();
+        y.run(1);
+        e.due("one that was told meanwhile", y.about(2, 0), 1);
+    }
+
+    private static void waitsAgain() {
+        Edge e = Edge.of(24, "the WORD WAITS again, from when it came");
+        RankWire x = Wires.withWordOf0(0, 1000, 20);
+        x.disturb(25);
+        x.run(26);
+        e.due("it WAITS", x.of(0, 8), 1);
+        e.due("no LOSS", x.of(0, 10), 0);
+        x.run(100);
+        logIs(e, x, 0, 0, 25 + 18, 25 + 18 + LAST, 5 + 18 + LAST);
+        // another one that goes ahead goes first
+        RankWire y = Wires.withNodes(2);
+        y.word(0, 5, 0, 1000, 0);
+        y.word(1, 0, 0, 1000, 10);
+        y.disturb(10);
+        y.run(29);
+        e.due("another one goes ahead", y.count(3), 1);
+        e.due("it WAITS", y.of(0, 8), 1);
+    }
+
+    private static void cameAgainMeanwhile() {
+        Edge e = Edge.of(8, "(if it came again meanwhile that is a LOSS more, and it WAITS from then on)");
         RankWire x = Wires.withNodes(2);
         x.word(0, 1, 8, 100, 0);
         x.value(0, 0x5555555555555555L);
@@ -350,221 +618,107 @@ public final class RunTest {
         int at = size - 1;
         x.disturb(at);
         x.run(size);
-        c.due("8: it came again meanwhile", x.of(0, 10), size > 100 ? 1 : 0);
-        c.due("8: it waits", x.of(0, 8), 1);
+        e.due("longer than T", size > 101 ? 1 : 0, 1);
+        e.due("a LOSS", x.of(0, 10), 1);
+        e.due("it WAITS", x.of(0, 8), 1);
         x.disturb(at + 18 + 3);
         x.run(18 + 4);
-        c.due("8: it failed, and didn't come meanwhile", x.of(0, 10), 1);
+        e.due("it FAILED, and didn't come meanwhile", x.of(0, 10), 1);
         x.run(18 + size);
         int end = at + 18 + 3 + 18 + size - 1;
-        c.due("26: its time is from then on", x.log(0, 3), end - 100);
+        e.due("its TIME is from then on", x.log(0, 3), end - 100);
     }
 
-    private static void countsOfNodes() {
+    private static void cameAgainInThatTick() {
+        Edge e = Edge.of(24, "Where it FAILS (behind (3) of that tick)");
+        for (int by = -1; by <= 1; by++) {
+            RankWire x = Wires.withNodes(2);
+            x.word(0, 1, 8, 100, 0);
+            x.value(0, 0x5555555555555555L);
+            x.disturb(100 + by);
+            x.run(100 + by + 1);
+            e.due("it came again in tick 100, and FAILED in " + (100 + by), x.of(0, 10), by < 0 ? 0 : 1);
+        }
+        RankWire y = Wires.withWordOf0(0, 1000, 0);
+        y.disturb(0);
+        y.run(1);
+        e.due("it begins and FAILS in one tick", y.count(2), 1);
+        logIs(e, y, 0, 0, 0, 0, NONE);
+        e.due("it WAITS", y.of(0, 8), 1);
+    }
+
+    private static void freeFromThe18th() {
+        Edge e = Edge.of(25, "THE WIRE is free again from the 18th tick behind it.");
+        RankWire x = Wires.withWordOf0(0, 1000, 0);
+        x.disturb(10);
+        x.run(11);
+        e.due("free from", x.count(4), 28);
+        x.run(17);
+        e.due("not in the 17th", x.count(3), NONE);
+        x.run(1);
+        e.due("in the 18th", x.count(3), 0);
+    }
+
+    // ---- how they are heard
+
+    private static void heardAtItsLastTick() {
+        Edge e = Edge.of(24, "Else it is HEARD at its last tick (behind (3))");
+        RankWire x = Wires.withWordOf0(0, 1000, 0);
+        x.word(1, 1, 0, 1000, LAST);
+        e.due("ahead of it", x.run(LAST), 0);
+        e.due("in it", x.run(1), 1);
+        e.due("one that came in it WAITS", x.of(1, 8), 1);
+        e.due("HEARD", x.of(0, 9), 1);
+        logIs(e, x, 0, 0, 0, LAST, LAST);
+        Edge time = Edge.of(26, "its TIME is how many ticks from that in which it came");
+        x.run(100);
+        time.due("of the other", x.log(0, 3), 4 + x.size(1) - 1);
+    }
+
+    private static void countsWhereItIsHeard() {
+        Edge e = Edge.of(9, "COUNT of its NODE, and of all others that are not OFF, is 1 less (0 at least)");
         RankWire x = Wires.withNodes(3);
-        x.word(1, 5, 0, 100, 0);
-        for (int i = 0; i < 17; i++) {
-            x.disturb(19 * i);
-        }
-        x.run(19 * 17);
-        c.due("9: of its node", x.about(1, 0), 136);
-        c.due("9: QUIET", x.about(1, 1), 1);
-        c.due("9: of another", x.about(0, 0), 17);
-        c.due("9: of another", x.about(2, 0), 17);
+        x.word(1, 0, 0, 1000, 0);
+        x.disturb(0);
+        x.disturb(18);
+        x.run(19);
         x.node();
-        int more = x.run(1200);
-        c.due("9: 1 less each", x.about(1, 0), 136 - more);
-        c.due("9: 1 less each", x.about(0, 0), 17 - more);
-        c.due("9: 0 at least", x.about(3, 0), 0);
-        c.due("9: ACTIVE again", x.about(1, 1), 0);
+        e.due("of its NODE", x.about(1, 0), 16);
+        e.due("of another", x.about(0, 0), 2);
+        x.run(18 + SIZE);
+        e.due("of its NODE", x.about(1, 0), 15);
+        e.due("of another", x.about(0, 0), 1);
+        e.due("of another", x.about(2, 0), 1);
+        e.due("0 at least", x.about(3, 0), 0);
+        RankWire y = Wires.withWordOf0(0, 1000, 0);
+        y.run(SIZE);
+        e.due("0 at least, of its NODE", y.about(0, 0), 0);
+        RankWire z = Wires.justOff();
+        z.node();
+        z.node();
+        z.word(1, 5, 0, 100000, OFF + 1);
+        z.run(100);
+        e.due("HEARD", z.of(1, 9), 1);
+        e.due("an OFF one has no less", z.about(0, 0), 256);
     }
 
-    private static void edgesOfCounts() {
-        RankWire x = Wires.withNodes(2);
-        x.word(0, 5, 20, 100, 0);
-        x.come(0);
-        for (int i = 0; i < 16; i++) {
-            x.disturb(18 * i);
-        }
-        x.run(18 * 15 + 1);
-        c.due("9: 128", x.about(0, 0), 128);
-        c.due("9: QUIET at 128", x.about(0, 1), 1);
-        x.run(100);
-        c.due("9: 127", x.about(0, 0), 127);
-        c.due("9: ACTIVE at 127", x.about(0, 1), 0);
-        RankWire y = Wires.withNodes(2);
-        y.word(0, 5, 20, 100, 0);
-        y.word(1, 4, 20, 100, 0);
-        y.come(0);
-        for (int i = 0; i < 31 + 8; i++) {
-            y.disturb(18 * i);
-        }
-        y.run(18 * 30 + 1);
-        c.due("9: 248", y.about(0, 0), 248);
-        y.come(1);
-        y.run(18 * 7);
-        c.due("9: 255", y.about(0, 0), 255);
-        c.due("9: QUIET at 255", y.about(0, 1), 1);
-        c.due("8: it waits", y.of(0, 8), 1);
-        y.run(18);
-        c.due("9: 256", y.about(0, 0), 256);
-        c.due("9: OFF at 256", y.about(0, 1), 2);
-        c.due("8: it doesn't wait", y.of(0, 8), 0);
-        c.due("9: failed", y.about(0, 2), 31);
-        c.due("9: failed of the other", y.about(1, 2), 8);
-        c.due("9: of the other", y.about(1, 0), 31 + 64);
-    }
-
-    private static void refusedDisturbs() {
-        RankWire x = new RankWire();
-        c.due("23: disturb(-1)", x.disturb(-1), RankWire.NO);
-        c.due("23: disturb(MIN)", x.disturb(Integer.MIN_VALUE), RankWire.NO);
-        for (int i = 0; i < 60; i++) {
-            c.due("23: disturb", x.disturb(59 - i), i + 1);
-        }
-        c.due("23: the 61st", x.disturb(60), RankWire.FULL);
-        c.due("23: NO ahead of FULL", x.disturb(30), RankWire.NO);
-        c.due("25: count(7)", x.count(7), 60);
-        x.run(2);
-        c.due("25: count(7)", x.count(7), 58);
-        c.due("23: one that ran", x.disturb(1), RankWire.NO);
-        c.due("23: one that is told", x.disturb(2), RankWire.NO);
-        c.due("23: a far one", x.disturb(Integer.MAX_VALUE), 59);
-        c.due("23: the far one again", x.disturb(Integer.MAX_VALUE), RankWire.NO);
-        c.due("23: the last one", x.disturb(60), 60);
-        c.due("23: no more", x.disturb(61), RankWire.FULL);
-    }
-
-    private static void alone() {
-        RankWire x = Wires.withNodes(1);
-        x.word(0, 5, 0, 1000, 4);
-        int at = 4 + x.size(0) - 9;
-        x.run(at);
-        c.due("25: under way", x.count(3), 0);
+    private static void freeFromThe4th() {
+        Edge e = Edge.of(25, "THE WIRE is free again from the 4th tick behind it.");
+        RankWire x = Wires.withWordOf0(0, 1000, 0);
+        x.word(1, 1, 0, 1000, LAST + 3);
+        x.run(SIZE);
+        e.due("free from", x.count(4), LAST + 4);
+        x.run(3);
+        e.due("not in the 3rd", x.count(3), NONE);
+        e.due("it WAITS", x.of(1, 8), 1);
         x.run(1);
-        c.due("25: failed", x.count(2), 1);
-        logIs(x, "alone", 0, 0, 4, at, NONE);
-        c.due("25: free from the 18th", x.count(4), at + 18);
-        c.due("9: 8 more", x.about(0, 0), 8);
+        e.due("in the 4th", x.count(3), 1);
     }
 
-    private static void aloneAndDisturbed() {
-        int[] beside = {-1, 0, 1};
-        for (int by : beside) {
-            RankWire x = Wires.withNodes(1);
-            x.word(0, 5, 0, 1000, 0);
-            int ninth = x.size(0) - 9;
-            x.disturb(ninth + by);
-            x.run(ninth + 2);
-            c.due("24: the first of both", x.log(0, 2), Math.min(ninth, ninth + by));
-            c.due("25: it failed once", x.count(2), 1);
-        }
-    }
+    // ---- nodes that are off
 
-    private static void otherNodeAsItBegins() {
-        RankWire x = Wires.withNodes(1);
-        x.word(0, 5, 0, 1000, 1);
-        x.run(2);
-        x.node();
-        x.run(100);
-        c.due("24: it was alone as it began", x.log(1, 3), NONE);
-        c.due("24: then it was not", x.count(1), 1);
-        c.due("9: the other has 1 more, then 1 less", x.about(1, 0), 0);
-        c.due("9: it has 8 more, then 1 less", x.about(0, 0), 7);
-        RankWire y = Wires.withNodes(1);
-        y.word(0, 5, 0, 1000, 1);
-        y.run(1);
-        y.node();
-        c.due("24: told ahead of its tick", y.run(100), 1);
-        c.due("25: none failed", y.count(2), 0);
-    }
-
-    private static void offAndBack() {
-        int size = 48;
-        int off = 31 * (size + 9) + size - 9;
-        // its second time is in the tick in which the node has COUNT 0 again
-        RankWire x = Wires.withNodes(1);
-        x.word(0, 0, 0, off + 1408, 3);
-        c.due("10: size", x.size(0), size);
-        x.run(3 + off);
-        c.due("9: not OFF yet", x.about(0, 0), 248);
-        x.run(1);
-        c.due("9: OFF", x.about(0, 0), 256);
-        c.due("8: it doesn't wait", x.of(0, 8), 0);
-        x.run(1407);
-        c.due("9: OFF still", x.about(0, 1), 2);
-        x.run(1);
-        c.due("9: COUNT 0 again", x.about(0, 0), 0);
-        c.due("9: how many failed is kept", x.about(0, 2), 32);
-        c.due("25: it came in that tick", x.count(3), 0);
-        c.due("8: no loss", x.of(0, 10), 0);
-        // one tick sooner that time is gone
-        RankWire y = Wires.withNodes(1);
-        y.word(0, 0, 0, off + 1407, 3);
-        y.run(3 + off + 1409);
-        c.due("25: it didn't come", y.count(3), NONE);
-        c.due("8: it doesn't wait", y.of(0, 8), 0);
-        y.run(off + 1408 - 3);
-        c.due("25: it didn't come", y.count(3), NONE);
-        y.run(1);
-        c.due("25: its next time", y.count(3), 0);
-        // it comes again while its last frame is under way
-        RankWire z = Wires.withNodes(1);
-        z.word(0, 0, 0, 31 * (size + 9) + 5, 0);
-        z.run(off + 1);
-        c.due("9: OFF", z.about(0, 1), 2);
-        c.due("8: a loss", z.of(0, 10), 1);
-        c.due("8: it doesn't wait", z.of(0, 8), 0);
-    }
-
-    private static void offNodesDontComeNorHear() {
-        RankWire x = new RankWire();
-        int off = untilOff(x);
-        x.node();
-        x.word(1, 10, 0, 100000, off + 30);
-        x.word(0, 20, 30, 100, 1);
-        x.run(29 + x.size(1) - 8);
-        c.due("24: an OFF node is none that hears", x.log(0, 2), off + 30 + x.size(1) - 9);
-        c.due("26: its word", x.log(0, 0), 1);
-        c.due("9: the OFF one has no more", x.about(0, 0), 256);
-        x.node();
-        x.run(200);
-        c.due("24: heard by another", x.of(1, 9), 1);
-        c.due("9: the OFF one has no less", x.about(0, 0), 256);
-        c.due("8: its word doesn't come as an answer", x.of(2, 8) + x.of(2, 9), 0);
-        c.due("9: 8 more, 1 less", x.about(1, 0), 7);
-        c.due("9: 0 at least", x.about(2, 0), 0);
-    }
-
-    private static void othersBecomeOff() {
-        RankWire x = Wires.withNodes(10);
-        for (int i = 0; i < 10; i++) {
-            x.word(i, i, 20, 100, 0);
-        }
-        x.word(0, 50, 0, 100000, 0);
-        x.run(200);
-        c.due("24: heard", x.of(10, 9), 1);
-        int fails = 0;
-        while (x.about(0, 1) < 2 && fails < 200) {
-            // the words take turns, so that each node has about as many from its own as from others
-            int turn = fails % 9 + 1;
-            x.come(turn);
-            x.disturb(x.count(0));
-            x.disturb(x.count(0) + 100);
-            x.run(101);
-            fails = x.count(2);
-        }
-        c.due("9: none of its frames failed", x.about(0, 2), 0);
-        int others = 0;
-        for (int i = 1; i < 10; i++) {
-            others += x.about(i, 2);
-        }
-        c.due("9: those of the others did", others, x.count(2));
-        waitsOfANodeThatBecomesOff();
-    }
-
-    /** A RARE word of node 0 waits behind those that fail, till the node becomes OFF by them. */
-    private static void waitsOfANodeThatBecomesOff() {
+    private static void noneWaitsOfAnOffNode() {
+        Edge e = Edge.of(8, "As a NODE becomes OFF none of its WORDS WAITS any more.");
         RankWire x = Wires.withNodes(2);
         x.word(0, 0, 0, 100000, 0);
         x.word(0, 9, 20, 100, 0);
@@ -575,45 +729,360 @@ public final class RunTest {
             x.disturb(19 * i);
         }
         x.run(31 * 19);
-        c.due("8: both wait", x.of(1, 8) + x.of(2, 8), 2);
-        c.due("9: of node 0", x.about(0, 0), 248);
+        e.due("both wait", x.of(1, 8) + x.of(2, 8), 2);
+        e.due("COUNT of node 0", x.about(0, 0), 248);
         x.run(1);
-        c.due("9: OFF", x.about(0, 1), 2);
-        c.due("8: no word of it waits", x.of(0, 8) + x.of(1, 8), 0);
-        c.due("8: that is no loss", x.of(0, 10) + x.of(1, 10), 0);
-        c.due("8: one of the other does", x.of(2, 8), 1);
+        e.due("OFF", x.about(0, 1), 2);
+        e.due("no WORD of it WAITS", x.of(0, 8) + x.of(1, 8), 0);
+        e.due("that is no LOSS", x.of(0, 10) + x.of(1, 10), 0);
+        e.due("one of the other does", x.of(2, 8), 1);
         x.run(18);
-        c.due("25: and goes on", x.count(3), 2);
+        e.due("and goes on", x.count(3), 2);
+        // it came again while its last FRAME was under way
+        RankWire z = Wires.withNodes(1);
+        z.word(0, 0, 0, 31 * (NINTH + 18) + 5, 0);
+        z.run(OFF + 1);
+        e.due("OFF", z.about(0, 1), 2);
+        e.due("a LOSS, as it came again", z.of(0, 10), 1);
+        e.due("it doesn't WAIT", z.of(0, 8), 0);
     }
 
-    private static void refusedRuns() {
+    private static void thoseOfOthersGoOn() {
+        Edge e = Edge.of(24, "As a NODE becomes OFF none of its WORDS WAITS any more.");
+        RankWire x = Wires.withNodes(1);
+        x.word(0, 0, 0, 100000, 0);
+        x.word(0, 1, 20, 100, 0);
+        x.word(0, 2, 20, 100, 0);
+        x.run(OFF);
+        x.node();
+        x.node();
+        x.word(1, 9, 20, 100, 0);
+        x.come(3);
+        x.run(1);
+        e.due("OFF", x.about(0, 1), 2);
+        e.due("those of it that didn't WAIT don't", x.of(1, 8) + x.of(2, 8), 0);
+        e.due("the one of another does", x.of(3, 8), 1);
+        x.run(18);
+        e.due("and goes on", x.count(3), 3);
+        e.due("and is HEARD", x.run(100), 1);
+    }
+
+    private static void othersBecomeOff() {
+        Edge e = Edge.of(9, "all others that are not OFF 1 more");
+        RankWire x = Wires.withNodes(10);
+        for (int i = 0; i < 10; i++) {
+            x.word(i, i, 20, 100, 0);
+        }
+        int fails = 0;
+        while (x.about(0, 1) < 2 && fails < 100) {
+            x.come(fails % 9 + 1);
+            x.disturb(x.count(0));
+            x.disturb(x.count(0) + 100);
+            x.run(101);
+            fails = x.count(2);
+        }
+        e.due("none of its FRAMES FAILED", x.about(0, 2), 0);
+        int others = 0;
+        for (int i = 1; i < 10; i++) {
+            others += x.about(i, 2);
+        }
+        e.due("those of the others did", others, x.count(2));
+    }
+
+    private static void zeroAgainBehind1408() {
+        Edge e = Edge.of(9, "an OFF NODE has COUNT 0 again in the tick 1408 behind that in which it became so");
+        RankWire x = Wires.justOff();
+        e.due("OFF", x.about(0, 1), 2);
+        e.due("since", x.log(0, 2), OFF);
+        x.run(1407);
+        e.due("that tick is open", x.count(0), OFF + 1408);
+        e.due("COUNT", x.about(0, 0), 256);
+        x.run(1);
+        e.due("COUNT 0 again", x.about(0, 0), 0);
+        e.due("ACTIVE", x.about(0, 1), 0);
+        e.due("how many FAILED is as it was", x.about(0, 2), 32);
+        // the same once more
+        RankWire y = Wires.withNodes(1);
+        y.word(0, 0, 0, OFF + 1408 + 1, 0);
+        int again = OFF + 1408 + 1 + OFF;
+        Wires.runTo(y, again + 1);
+        e.due("OFF once more", y.about(0, 1), 2);
+        Wires.runTo(y, again + 1408);
+        e.due("OFF", y.about(0, 1), 2);
+        y.run(1);
+        e.due("COUNT 0 once more", y.about(0, 0), 0);
+        e.due("FAILED", y.about(0, 2), 64);
+    }
+
+    private static void comesAsCountIsZeroAgain() {
+        Edge e = Edge.of(24, "Those of OFF NODES don't come (that time is gone).");
+        // its second time is in the tick in which COUNT is 0 again
+        RankWire x = Wires.withNodes(1);
+        x.word(0, 0, 0, OFF + 1408, 3);
+        Wires.runTo(x, 3 + OFF + 1408 + 1);
+        e.due("(1) is ahead of (2)", x.count(3), 0);
+        e.due("no LOSS", x.of(0, 10), 0);
+        // one tick sooner
+        RankWire y = Wires.withNodes(1);
+        y.word(0, 0, 0, OFF + 1407, 3);
+        Wires.runTo(y, 3 + OFF + 1407 + 1);
+        e.due("it doesn't WAIT", y.of(0, 8), 0);
+        e.due("no LOSS", y.of(0, 10), 0);
+        Wires.runTo(y, 3 + 2 * (OFF + 1407));
+        e.due("that time is gone", y.count(3), NONE);
+        y.run(1);
+        e.due("its next time", y.count(3), 0);
+    }
+
+    private static void offNodesDontCome() {
+        Edge e = Edge.of(24, "Those of OFF NODES don't come");
+        RankWire x = Wires.justOff();
+        x.node();
+        x.node();
+        x.word(0, 5, 10, 200, OFF + 10);
+        x.word(1, 6, 0, 100000, OFF + 10);
+        x.word(0, 7, 30, 100, 2);
+        x.run(300);
+        e.due("HEARD of the other node", x.of(2, 9), 1);
+        e.due("a SHAKEN one", x.of(1, 8) + x.of(1, 9) + x.of(1, 10), 0);
+        e.due("an answer", x.of(3, 8) + x.of(3, 9) + x.of(3, 10), 0);
+        Wires.runTo(x, OFF + 1408 + 1);
+        e.due("those times are gone", x.of(1, 8) + x.of(3, 8), 0);
+        e.due("none is under way", x.count(3), NONE);
+        // OFF + 10 + 7 * 200: the next time of the SHAKEN one
+        Wires.runTo(x, OFF + 10 + 1400 + 1);
+        e.due("its next time", x.count(3), 1);
+    }
+
+    // ---- the calls
+
+    private static void comes() {
+        Edge e = Edge.of(22, "A RARE WORD is due in the tick that is open");
+        RankWire x = Wires.withWordOf0(2, 100, 0);
+        x.run(50);
+        e.due("come(0)", x.come(0), 1);
+        x.run(1);
+        e.due("under way", x.count(3), 0);
+        x.run(100);
+        logIs(e, x, 0, 0, 50, 50 + LAST, LAST);
+    }
+
+    private static void comesOnlyByItsTick() {
+        Edge e = Edge.of(22, "(till then it doesn't WAIT by this, nor is a LOSS counted): 1.");
+        RankWire x = Wires.withNodes(2);
+        x.word(0, 1, 8, 100, 0);
+        x.value(0, 0x5555555555555555L);
+        x.word(0, 5, 20, 100, 0);
+        x.run(1);
+        e.due("come(1)", x.come(1), 1);
+        e.due("it doesn't WAIT", x.of(1, 8), 0);
+        x.run(1);
+        e.due("it WAITS", x.of(1, 8), 1);
+        x.run(99);
+        e.due("come(1) again", x.come(1), 1);
+        e.due("no LOSS till then", x.of(1, 10), 0);
+        x.run(1);
+        e.due("a LOSS", x.of(1, 10), 1);
+        e.due("it WAITS", x.of(1, 8), 1);
+    }
+
+    private static void comeRefused() {
+        Edge e = Edge.of(22, "BEYOND, KIND; NO");
+        RankWire x = Wires.justOff();
+        x.word(0, 6, 10, 1000, 90000);
+        x.word(0, 7, 30, 1000, 0);
+        int[] none = {3, -1, Integer.MIN_VALUE, Integer.MAX_VALUE};
+        for (int word : none) {
+            e.due("come(" + word + ")", x.come(word), RankWire.BEYOND);
+        }
+        // its NODE is OFF
+        for (int word = 0; word < 3; word++) {
+            e.due("KIND ahead of NO", x.come(word), RankWire.KIND);
+        }
+        x.run(1408);
+        for (int word = 0; word < 3; word++) {
+            e.due("of another KIND", x.come(word), RankWire.KIND);
+        }
+    }
+
+    private static void comeLessThanT() {
+        Edge e = Edge.of(22, "NO: come() was told of it less than T ticks before");
+        int[] ts = {100, 100000};
+        for (int t : ts) {
+            RankWire x = Wires.withWordOf0(2, t, 0);
+            x.word(0, 1, 20, 100, 0);
+            x.run(9);
+            e.due("the first one", x.come(0), 1);
+            e.due("in the same tick", x.come(0), RankWire.NO);
+            e.due("another WORD", x.come(1), 1);
+            Wires.runTo(x, 9 + t - 1);
+            e.due("T - 1 ticks behind", x.come(0), RankWire.NO);
+            x.run(1);
+            e.due("T ticks behind", x.come(0), 1);
+            x.run(1);
+            e.due("one tick behind that", x.come(0), RankWire.NO);
+            Wires.runTo(x, 9 + 2 * t);
+            // a refused one is none: T ticks are from the last that was not
+            e.due("T ticks behind that", x.come(0), 1);
+        }
+    }
+
+    private static void comeOfAnOffNode() {
+        Edge e = Edge.of(22, "its NODE is OFF.");
+        RankWire x = Wires.justOff();
+        x.word(0, 5, 20, 1409, 0);
+        e.due("OFF", x.come(1), RankWire.NO);
+        x.run(1407);
+        e.due("OFF till (1) of the tick that is open", x.come(1), RankWire.NO);
+        x.run(1);
+        e.due("no more, and a refused one is none", x.come(1), 1);
+    }
+
+    private static void disturbs() {
+        Edge e = Edge.of(23, "A tick is DISTURBED: how many are told.");
         RankWire x = new RankWire();
-        c.due("24: run(0)", x.run(0), RankWire.NO);
-        c.due("24: run(-1)", x.run(-1), RankWire.BELOW);
-        c.due("24: run(MIN)", x.run(Integer.MIN_VALUE), RankWire.BELOW);
-        c.due("24: run(5001)", x.run(5001), RankWire.NO);
-        c.due("24: run(MAX)", x.run(Integer.MAX_VALUE), RankWire.NO);
-        c.due("25: tick", x.count(0), 0);
-        c.due("24: run(5000)", x.run(5000), 0);
-        c.due("25: tick", x.count(0), 5000);
+        e.due("the one that is open", x.disturb(0), 1);
+        e.due("the next one", x.disturb(1), 2);
+        e.due("a far one", x.disturb(Integer.MAX_VALUE), 3);
+        x.run(1);
+        e.due("those that are open or later", x.disturb(2), 3);
+    }
+
+    private static void disturbRefused() {
+        Edge e = Edge.of(23, "NO: it is not one that is open or later, it is told already; FULL.");
+        RankWire x = new RankWire();
+        e.due("disturb(-1)", x.disturb(-1), RankWire.NO);
+        e.due("disturb(MIN)", x.disturb(Integer.MIN_VALUE), RankWire.NO);
+        x.run(10);
+        e.due("the one before", x.disturb(9), RankWire.NO);
+        e.due("the one that is open", x.disturb(10), 1);
+        e.due("told already", x.disturb(10), RankWire.NO);
+        e.due("a far one", x.disturb(Integer.MAX_VALUE), 2);
+        e.due("told already", x.disturb(Integer.MAX_VALUE), RankWire.NO);
+        x.run(1);
+        e.due("one that ran", x.disturb(10), RankWire.NO);
+    }
+
+    private static void disturbFull() {
+        Edge e = Edge.of(23, "DISTURBED ticks (60 at most that are open or later) are told.");
+        RankWire x = new RankWire();
+        for (int i = 0; i < 60; i++) {
+            e.due("disturb", x.disturb(59 - i), i + 1);
+        }
+        e.due("the 61st", x.disturb(60), RankWire.FULL);
+        e.due("NO ahead of FULL: told already", x.disturb(30), RankWire.NO);
+        e.due("NO ahead of FULL: not one that is open", x.disturb(-1), RankWire.NO);
+        e.due("how many", x.count(7), 60);
+        x.run(1);
+        e.due("one less is open or later", x.count(7), 59);
+        e.due("room for one", x.disturb(60), 60);
+        e.due("for one only", x.disturb(61), RankWire.FULL);
+        x.run(60);
+        e.due("none is open or later", x.count(7), 0);
+        e.due("the first of 60 more", x.disturb(61), 1);
+    }
+
+    private static void runs() {
+        Edge e = Edge.of(24, "n ticks (1 .. 5000): how many FRAMES were HEARD.");
+        RankWire x = Wires.withWordOf0(0, 100, 0);
+        e.due("run(5000)", x.run(5000), 50);
+        e.due("how many ticks", x.count(0), 5000);
+        e.due("run(1)", x.run(1), 0);
+        e.due("how many ticks", x.count(0), 5001);
+        e.due("run(LAST - 1)", x.run(LAST - 1), 0);
+        e.due("its last tick", x.run(1), 1);
+        e.due("in all", x.count(1), 51);
+        e.due("those that FAIL are none", Wires.withWord(0, 0, 0).run(200), 0);
+    }
+
+    private static void runRefused() {
+        Edge e = Edge.of(24, "BELOW, NO.");
+        RankWire x = new RankWire();
+        e.due("run(0)", x.run(0), RankWire.NO);
+        e.due("run(5001)", x.run(5001), RankWire.NO);
+        e.due("run(MAX)", x.run(Integer.MAX_VALUE), RankWire.NO);
+        e.due("run(-1)", x.run(-1), RankWire.BELOW);
+        e.due("run(MIN)", x.run(Integer.MIN_VALUE), RankWire.BELOW);
+        e.due("no tick ran", x.count(0), 0);
+    }
+
+    private static void counts() {
+        Edge e = Edge.of(25, "NODES (5), WORDS (6), DISTURBED ticks that are open or later (7). NO.");
+        RankWire x = Wires.withWordOf0(0, 100, 0);
+        x.node();
+        x.disturb(0);
+        x.disturb(1);
+        int[] due = {0, 0, 0, NONE, 0, 3, 1, 2};
+        for (int what = 0; what < 8; what++) {
+            e.due("count(" + what + ")", x.count(what), due[what]);
+        }
+        x.run(1);
+        e.due("DISTURBED ones that are open or later", x.count(7), 1);
+        int[] others = {8, -1, Integer.MIN_VALUE, Integer.MAX_VALUE};
+        for (int what : others) {
+            e.due("count(" + what + ")", x.count(what), RankWire.NO);
+        }
+        Edge frames = Edge.of(25, "The tick that is open (what = 0), FRAMES that were HEARD (1), that FAILED (2)");
+        x.run(299);
+        frames.due("tick", x.count(0), 300);
+        frames.due("HEARD", x.count(1), 3);
+        frames.due("FAILED", x.count(2), 1);
+    }
+
+    private static void countOfWhatIsUnderWay() {
+        Edge e = Edge.of(25, "the WORD under way (3; NONE), the tick from which THE WIRE is free (4; NONE while one is under way)");
+        RankWire x = Wires.withWordOf0(0, 1000, 2);
+        e.due("none", x.count(3), NONE);
+        e.due("free from the first tick on", x.count(4), 0);
+        x.run(2);
+        e.due("free from the first tick on", x.count(4), 0);
+        x.run(1);
+        e.due("WORD 0", x.count(3), 0);
+        e.due("NONE", x.count(4), NONE);
+        x.run(LAST);
+        e.due("none", x.count(3), NONE);
+        e.due("free from", x.count(4), 2 + LAST + 4);
+        x.run(500);
+        e.due("free since", x.count(4), 2 + LAST + 4);
+        e.due("NONE is no refusal", x.status(RankWire.NO), 0);
+    }
+
+    private static void logs() {
+        Edge e = Edge.of(26, "its WORD (what = 0), the tick in which it began (1), in which it was HEARD or FAILED (2), its TIME, or NONE where it FAILED (3)");
+        RankWire x = Wires.withWordOf0(0, 1000, 5);
+        x.word(1, 1, 0, 1000, 0);
+        x.disturb(3);
+        x.run(300);
+        // 1 FAILS in 3; 0 comes in 5, and goes ahead in 21; then 1 again
+        logIs(e, x, 2, 1, 0, 3, NONE);
+        logIs(e, x, 1, 0, 21, 21 + LAST, 16 + LAST);
+        int begin = 21 + LAST + 4;
+        logIs(e, x, 0, 1, begin, begin + x.size(1) - 1, begin + x.size(1) - 1);
+        Edge refused = Edge.of(26, "BEYOND, NO.");
+        int[] others = {4, -1, Integer.MIN_VALUE, Integer.MAX_VALUE};
+        for (int what : others) {
+            refused.due("log(0, " + what + ")", x.log(0, what), RankWire.NO);
+            refused.due("BEYOND ahead of NO", x.log(3, what), RankWire.BEYOND);
+        }
+        int[] none = {3, -1, Integer.MIN_VALUE, Integer.MAX_VALUE};
+        for (int i : none) {
+            refused.due("log(" + i + ", 0)", x.log(i, 0), RankWire.BEYOND);
+        }
+        refused.due("none yet", new RankWire().log(0, 0), RankWire.BEYOND);
     }
 
     private static void logOfForty() {
-        RankWire x = Wires.withNodes(2);
-        x.word(0, 5, 0, 100, 0);
-        int size = x.size(0);
+        Edge e = Edge.of(26, "FRAME i of those that were HEARD or FAILED, from 0, the latest one first (40 at most are kept)");
+        RankWire x = Wires.withWordOf0(0, 100, 0);
         for (int i = 0; i < 45; i++) {
-            c.due("26: not so many", x.log(i, 0), RankWire.BEYOND);
-            c.due("24: heard", x.run(100), 1);
-            c.due("26: the latest one", x.log(0, 1), 100 * i);
+            e.due("not so many", x.log(i, 0), RankWire.BEYOND);
+            x.run(100);
+            e.due("the latest one", x.log(0, 1), 100 * i);
+            e.due("the first one that is kept", x.log(Math.min(i, 39), 1), 100 * Math.max(0, i - 39));
         }
         for (int i = 0; i < 40; i++) {
-            logIs(x, "frame " + i, i, 0, 4400 - 100 * i, 4400 - 100 * i + size - 1, size - 1);
+            logIs(e, x, i, 0, 4400 - 100 * i, 4400 - 100 * i + LAST, LAST);
         }
-        c.due("26: log(40, 0)", x.log(40, 0), RankWire.BEYOND);
-        c.due("26: log(-1, 0)", x.log(-1, 0), RankWire.BEYOND);
-        c.due("26: log(0, 4)", x.log(0, 4), RankWire.NO);
-        c.due("26: log(0, -1)", x.log(0, -1), RankWire.NO);
-        c.due("26: BEYOND ahead of NO", x.log(40, 4), RankWire.BEYOND);
+        e.due("log(40, 0)", x.log(40, 0), RankWire.BEYOND);
     }
 }
