@@ -5,7 +5,9 @@ import java.lang.reflect.Method;
 import java.lang.reflect.Modifier;
 import java.nio.file.Files;
 import java.nio.file.Path;
+import java.util.Map;
 import java.util.Set;
+import java.util.TreeMap;
 import java.util.TreeSet;
 import java.util.regex.Matcher;
 import java.util.regex.Pattern;
@@ -18,6 +20,7 @@ public final class LanguageTest {
         + "int feed(int,int) int lay(int) int bend(int) int wipe() int read(int) int told(int) long bytes() int come(int) int disturb(int) int run(int) "
         + "int count(int) int log(int,int) int every(int) int most(int) int worst(int) int misses() long load() int order() int place(int) int give() "
         + "int put(int) int tear() int row(int) int copy(int,int,int) int status(int)";
+    private static final int DEEPEST = 8;
     private static final String[] FORBIDDEN = {"throw", "throws", "try", "catch", "synchronized", "assert", "import", "package", "volatile",
         "transient", "native", "protected", "Object", "Thread", "Random", "Optional", "var", "hashCode", "toString", "getClass", "Exact"};
 
@@ -93,6 +96,10 @@ public final class LanguageTest {
 
     private static void source(String text) {
         String code = text.replaceAll("(?s)/\\*.*?\\*/", "").replaceAll("//[^\n]*", "");
+        Map<String, String> bodies = bodies(code);
+        everyMethodIsFound(bodies);
+        callsAreNotDeep(bodies);
+        objectsAreFew(bodies);
         for (String word : FORBIDDEN) {
             holds("no " + word, !Pattern.compile("\\b" + word + "\\b").matcher(code).find());
         }
@@ -106,6 +113,63 @@ public final class LanguageTest {
                 holds("a method of " + length + " lines", length <= 60);
             }
         }
+    }
+
+    /** The bodies of methods by their names, those of one name in several classes together. */
+    private static Map<String, String> bodies(String code) {
+        Map<String, String> bodies = new TreeMap<>();
+        Matcher body = Pattern.compile("(?ms)^( {4}| {8})(?:\\w[\\w\\[\\]]* )*(\\w+)\\([^)]*\\) \\{$(.*?)^\\1\\}$").matcher(code);
+        while (body.find()) {
+            bodies.merge(body.group(2), body.group(3), String::concat);
+        }
+        return bodies;
+    }
+
+    private static void everyMethodIsFound(Map<String, String> bodies) {
+        for (Method method : RankWire.class.getDeclaredMethods()) {
+            holds("the source has " + method.getName(), bodies.containsKey(method.getName()));
+        }
+        for (Class<?> one : RankWire.class.getDeclaredClasses()) {
+            for (Method method : one.getDeclaredMethods()) {
+                holds("the source has " + method.getName(), bodies.containsKey(method.getName()));
+            }
+        }
+    }
+
+    /** Rules 8 and 11: methods of one name count as one that calls what any of them does. */
+    private static void callsAreNotDeep(Map<String, String> bodies) {
+        Map<String, Set<String>> calls = new TreeMap<>();
+        for (String name : bodies.keySet()) {
+            Set<String> called = new TreeSet<>();
+            Matcher call = Pattern.compile("(\\w+)\\(").matcher(bodies.get(name));
+            while (call.find()) {
+                called.add(call.group(1));
+            }
+            calls.put(name, called);
+        }
+        for (String name : calls.keySet()) {
+            int deep = depth(name, calls, 1);
+            holds(name + " goes " + deep + " calls deep", deep <= DEEPEST);
+        }
+    }
+
+    /** Rule 12 and the one room: a call makes at most the node or the word that is kept. */
+    private static void objectsAreFew(Map<String, String> bodies) {
+        for (String name : bodies.keySet()) {
+            boolean makes = Pattern.compile("\\bnew\\b|\\.clone\\(|copyOf").matcher(bodies.get(name)).find();
+            holds(name + " makes no object", !makes || name.equals("addNode") || name.equals("word"));
+        }
+    }
+
+    /** Of a method that calls itself, by others or not: above the deepest that is looked at. */
+    private static int depth(String name, Map<String, Set<String>> calls, int above) {
+        int deepest = above;
+        for (String called : above > DEEPEST ? Set.<String>of() : calls.get(name)) {
+            if (calls.containsKey(called)) {
+                deepest = Math.max(deepest, depth(called, calls, above + 1));
+            }
+        }
+        return deepest;
     }
 
     private static void holds(String what, boolean holds) {
